@@ -22,7 +22,6 @@ public final class CodeLayout {
     private Layout layout;
     private Layout plain;
     private Rules checker;
-    private boolean hasLayout;
     private int strayed;
     private final Machine[] machines;
 
@@ -86,7 +85,6 @@ public final class CodeLayout {
         ordering = null;
         layout = null;
         plain = null;
-        hasLayout = false;
         forgetRuns();
         return found.functions;
     }
@@ -212,17 +210,16 @@ public final class CodeLayout {
         ordering.arrange(page);
         layout.write(ordering.row, ordering.hotBlocks, apart);
         strayed += layout.strayed;
-        hasLayout = true;
         forgetRuns();
         return layout.newBytes();
     }
 
     public int order(int k) {
-        return hasLayout ? layout.blockInRow(k) : -1;
+        return layout != null ? layout.blockInRow(k) : -1;
     }
 
     public int laid(int what) {
-        if (!hasLayout || what < 0 || what > 4) {
+        if (layout == null || what < 0 || what > 4) {
             return NOTHING;
         }
         switch (what) {
@@ -240,32 +237,32 @@ public final class CodeLayout {
     }
 
     public long weight(int f, int what) {
-        if (!hasLayout || !program.hasFunction(f) || what < 0 || what > 1) {
+        if (layout == null || ordering == null || !program.hasFunction(f) || what < 0 || what > 1) {
             return NOTHING;
         }
         return what == 0 ? ordering.weightByNumber(f) : ordering.weightAsLaid(f);
     }
 
     public long moved(long address) {
-        if (!hasLayout || program.wordAtAddress(address) < 0) {
+        if (layout == null || program.wordAtAddress(address) < 0) {
             return NOTHING;
         }
         return layout.newAddress(address);
     }
 
     public int size() {
-        return hasLayout ? layout.image.length : NOTHING;
+        return layout != null ? layout.image.length : NOTHING;
     }
 
     public int out(int i) {
-        if (!hasLayout || i < 0 || i >= layout.image.length) {
+        if (layout == null || i < 0 || i >= layout.image.length) {
             return -1;
         }
         return layout.image.byteAt(i);
     }
 
     public int check() {
-        if (!hasLayout) {
+        if (layout == null) {
             return NOTHING;
         }
         if (checker == null || checker.image != layout.image) {
@@ -286,7 +283,7 @@ public final class CodeLayout {
     }
 
     public int run(int which, int visits) {
-        if (program == null || which == 2 && !hasLayout) {
+        if (program == null || which == 2 && layout == null) {
             return NOTHING;
         }
         if (which < 0 || which >= RUNS || visits < 0 || visits > VISITS_MOST) {
@@ -295,7 +292,7 @@ public final class CodeLayout {
         if (machines[which] == null) {
             machines[which] = new Machine(which == 1);
         }
-        int newBytes = hasLayout ? layout.newBytes() : program.textBytes();
+        int newBytes = layout != null ? layout.newBytes() : program.textBytes();
         if (which == 2) {
             machines[which].begin(program, layout.image, layout.newAddress(program.entry), newBytes);
         } else {
@@ -355,7 +352,7 @@ public final class CodeLayout {
         if (code != Machine.START && code != Machine.RETURN) {
             return 0;
         }
-        if (!hasLayout) {
+        if (layout == null) {
             return old;
         }
         // What is behind a call moves with the call, not with the block that stood there.
@@ -425,6 +422,8 @@ public final class CodeLayout {
             bytes = new byte[Math.max(0, Math.min(n, from.length))];
             System.arraycopy(from, 0, bytes, 0, bytes.length);
             length = bytes.length;
+            words = new int[0];
+            marks = words;
             textPlace = Integer.MAX_VALUE;
         }
 
@@ -449,30 +448,26 @@ public final class CodeLayout {
             if (at < 0 || at >= length) {
                 return 0;
             }
-            int from = at;
-            if (at >= textPlace) {
-                if (at < textPlace + 4 * allWords) {
-                    return textByte(at - textPlace);
-                }
-                if (at < tailPlace) {
-                    return 0;
-                }
-                from = at - shift;
+            int distance = at - textPlace;
+            if (distance >= 0 && distance < 4 * allWords) {
+                int i = distance >> 2;
+                int gone = i < hotWords ? 0 : gapWords;
+                boolean inGap = i >= hotWords && i < hotWords + gapWords;
+                return inGap || i - gone >= words.length ? 0 : words[i - gone] >>> 8 * (distance & 3) & 255;
             }
+            if (distance >= 0 && at < tailPlace) {
+                return 0;
+            }
+            int from = distance >= 0 ? at - shift : at;
             return from >= 0 && from < bytes.length ? bytes[from] & 255 : 0;
         }
 
-        int textByte(int distance) {
-            int i = indexAt(distance & ~3);
-            return i < 0 ? 0 : wordOf(i) >>> 8 * (distance & 3) & 255;
-        }
-
         int wordOf(int i) {
-            return words != null && i >= 0 && i < words.length ? words[i] : 0;
+            return i >= 0 && i < words.length ? words[i] : 0;
         }
 
         int markOf(int i) {
-            return marks != null && i >= 0 && i < marks.length ? marks[i] : NO_MARK;
+            return i >= 0 && i < marks.length ? marks[i] : NO_MARK;
         }
 
         /** Which of the words stands so many bytes behind the TEXT's first one. */
@@ -1096,7 +1091,7 @@ public final class CodeLayout {
             return how != 0 && !(changes && n != 31 && (n == d || n == a)) && !(loads && d == a);
         }
 
-        private static int goingKindOf(int w) {
+        static int goingKindOf(int w) {
             if ((w & 0xFC000000) == PLAIN_B) {
                 return B;
             }
@@ -2393,7 +2388,7 @@ public final class CodeLayout {
             for (int b = 0; b < row.length; b++) {
                 if (program.endOf(b) == Program.END_CONDITIONAL && !isLong[b]) {
                     int last = program.wordsOf(b) - 1;
-                    int kindOf = Code.kindOf(program.words[program.blockFrom(b) + last]);
+                    int kindOf = Code.goingKindOf(program.words[program.blockFrom(b) + last]);
                     if (!Code.reaches(kindOf, startOf(goesTo(b)) - (start[b] + last))) {
                         isLong[b] = true;
                         more = true;
@@ -2481,7 +2476,7 @@ public final class CodeLayout {
         }
 
         private int putConditional(int b, int last, int here) {
-            int kindOf = Code.kindOf(words[last]);
+            int kindOf = Code.goingKindOf(words[last]);
             int w = shape[b] == TURNED ? Code.turnedOver(words[last], kindOf) : words[last];
             if (!isLong[b]) {
                 put(last, going(w, kindOf, here, goesTo(b)));
@@ -2691,25 +2686,24 @@ public final class CodeLayout {
             }
         }
 
-        private int regionOf(long address, int many) {
+        /** Where bytes that lie wholly in one segment or the stack stand; -1 if they do not. */
+        int spotOf(long address, int many) {
             for (int i = 0; i < regions; i++) {
                 long distance = address - first[i];
                 if (address >= first[i] && distance <= bytes[i] - many) {
-                    return i;
+                    return firstSpot[i] + (int) distance;
                 }
             }
             return -1;
         }
 
-        /** Where bytes that lie wholly in one segment or the stack stand; -1 if they do not. */
-        int spotOf(long address, int many) {
-            int i = regionOf(address, many);
-            return i < 0 ? -1 : firstSpot[i] + (int) (address - first[i]);
-        }
-
-        boolean mayWrite(long address, int many) {
-            int i = regionOf(address, many);
-            return i >= 0 && writes[i];
+        boolean mayWrite(int spot) {
+            for (int i = 0; i < regions; i++) {
+                if (spot >= firstSpot[i] && spot - firstSpot[i] < bytes[i]) {
+                    return writes[i];
+                }
+            }
+            return false;
         }
 
         private long cellAt(int i) {
@@ -2717,23 +2711,20 @@ public final class CodeLayout {
         }
 
         long load(int spot, int many) {
+            long value = 0;
             if (spot >= TEXT_SPOT) {
-                return loadText(spot - TEXT_SPOT, many);
+                int from = image.textPlace + spot - TEXT_SPOT;
+                for (int i = 0; i < many && i < 8; i++) {
+                    value |= (long) image.byteAt(from + i) << 8 * i;
+                }
+                return value;
             }
             int shift = 8 * (spot & 7);
-            long value = cellAt(spot >> 3) >>> shift;
+            value = cellAt(spot >> 3) >>> shift;
             if (shift + 8 * many > 64) {
                 value |= cellAt((spot >> 3) + 1) << 64 - shift;
             }
             return many >= 8 ? value : value & (1L << 8 * many) - 1;
-        }
-
-        private long loadText(int distance, int many) {
-            long value = 0;
-            for (int i = 0; i < many && i < 8; i++) {
-                value |= (long) image.textByte(distance + i) << 8 * i;
-            }
-            return value;
         }
 
         void store(int spot, int many, long value) {
@@ -3253,7 +3244,8 @@ public final class CodeLayout {
         }
 
         private boolean faults(long address, int many, boolean stores) {
-            return stores ? !memory.mayWrite(address, many) : memory.spotOf(address, many) < 0;
+            int spot = memory.spotOf(address, many);
+            return spot < 0 || stores && !memory.mayWrite(spot);
         }
 
         private void put(long address, int many, int d) {

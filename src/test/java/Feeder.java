@@ -1,0 +1,36 @@
+/** Feeds files to objects, and takes new files out of them. */
+final class Feeder {
+    private Feeder() {
+    }
+
+    static void feed(CodeLayout x, byte[] file) {
+        for (int i = 0; i < file.length; i += 20) {
+            x.feed(word(file, i), word(file, i + 4), word(file, i + 8), word(file, i + 12), word(file, i + 16));
+        }
+        x.end(file.length);
+    }
+
+    private static int word(byte[] file, int at) {
+        int w = 0;
+        for (int i = 0; i < 4; i++) {
+            w = w << 8 | (at + i < file.length ? file[at + i] & 255 : 0);
+        }
+        return w;
+    }
+
+    static CodeLayout read(byte[] file, int due) {
+        CodeLayout x = new CodeLayout();
+        feed(x, file);
+        Due.is("read()", x.read(), due);
+        return x;
+    }
+
+    /** The new file; far more calls than an object is promised to be good for, which this class bears. */
+    static byte[] written(CodeLayout x) {
+        byte[] file = new byte[x.size()];
+        for (int i = 0; i < file.length; i++) {
+            file[i] = (byte) x.out(i);
+        }
+        return file;
+    }
+}
