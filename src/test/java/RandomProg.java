@@ -99,6 +99,9 @@ final class RandomProg {
         switch (random.nextInt(11)) {
             case 0:
                 spend(f);
+                if (random.nextInt(3) > 0) {
+                    work();
+                }
                 if (random.nextBoolean()) {
                     prog.b(label(f, to));
                 } else {
@@ -143,7 +146,7 @@ final class RandomProg {
                 }
                 break;
             default:
-                prog.b(next);
+                prog.b(random.nextInt(3) > 0 && b + 2 < blocks[f] ? label(f, b + 2) : next);
                 break;
         }
     }
