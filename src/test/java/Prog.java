@@ -178,6 +178,10 @@ final class Prog {
         return this;
     }
 
+    Prog movz0() {
+        return put(Word.movz(0, 0, 0));
+    }
+
     Prog exit() {
         return put(Word.movz(8, 93, 0), Word.CALL);
     }

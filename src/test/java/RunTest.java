@@ -1,0 +1,337 @@
+/** Promises 21 to 23, 26, 27, 30 and 31: outcomes, faults, going astray, visits, and what runs leave. */
+public final class RunTest {
+    private static final long STACK = 2147483648L;
+
+    public static void main(String[] args) {
+        visits();
+        manyWords();
+        faultsOfLoads();
+        faultsOfStores();
+        faultsOfPairs();
+        faultsOfFetching();
+        astray();
+        returnsInTheNewFile();
+        texts();
+        manyCalls();
+        memories();
+        layForgets();
+        Due.end("RunTest");
+    }
+
+    private static Prog begin() {
+        Prog p = new Prog();
+        p.data(6, 40);
+        p.data(4, 24);
+        for (int i = 0; i < 24; i++) {
+            p.data.get(1)[i] = (byte) (200 + i);
+        }
+        return p.function("f");
+    }
+
+    private static CodeLayout read(Prog p) {
+        return Feeder.read(p.file(), p.functionNames.size());
+    }
+
+    private static void visits() {
+        Prog p = begin();
+        p.number(1, 3).label("loop").put(Word.subNumber(1, 1, 1)).cbnz(1, "loop").exit().label("stay").b("stay");
+        CodeLayout x = read(p);
+        for (int visits = 0; visits <= 6; visits++) {
+            Due.is("run(0, " + visits + ")", x.run(0, visits), visits < 5 ? 0 : 1);
+            Due.is("visits", x.told(0, 0), Math.min(visits, 5));
+            Due.is("outcome", x.told(0, 5), visits < 5 ? 0 : 1);
+            int[] done = {0, 1, 3, 5, 7, 9, 9};
+            Due.is("instructions", x.told(0, 1), done[visits]);
+        }
+        int[] due = {0, 1, 1, 1, 2, -1};
+        for (int k = 0; k < due.length; k++) {
+            Due.is("visit(0, " + k + ")", x.visit(0, k), due[k]);
+        }
+        Due.is("visit(0, -1)", x.visit(0, -1), -1);
+        x.run(0, 2);
+        Due.is("visit(0, 1)", x.visit(0, 1), 1);
+        Due.is("visit(0, 2) of fewer", x.visit(0, 2), -1);
+        Due.is("register", x.register(0, 1), 2);
+        Prog q = begin().label("stay").b("stay");
+        CodeLayout y = read(q);
+        for (int which = 0; which < 2; which++) {
+            Due.is("without end", y.run(which, 4096), 0);
+            Due.is("all visits", y.told(which, 0), 4096);
+            Due.is("instructions", y.told(which, 1), 4096);
+            Due.is("the last visit", y.visit(which, 4095), 0);
+            Due.is("beyond", y.visit(which, 4096), -1);
+        }
+    }
+
+    private static void manyWords() {
+        for (int words = 99; words < 103; words++) {
+            Prog p = begin();
+            for (int i = 1; i < words; i++) {
+                p.put(Word.NOP);
+            }
+            p.b("f");
+            CodeLayout x = read(p);
+            x.lay(4, 4);
+            for (int which = 0; which < 3; which++) {
+                Due.is("outcome", x.run(which, 4096), 0);
+                Due.is("visits of " + words + " words", x.told(which, 0), 20000 / words);
+                Due.is("instructions", x.told(which, 1), 20000 / words * words);
+            }
+        }
+    }
+
+    /** What faults is not counted, and leaves all as it was. */
+    private static void faults(String what, int outcome, long at, int... words) {
+        Prog p = begin();
+        p.put(Word.movz(4, 11, 0), Word.movz(5, 12, 0)).number(1, at);
+        int before = p.words.size();
+        p.put(words).exit().label("stay").b("stay");
+        CodeLayout x = read(p);
+        x.lay(64, 64);
+        for (int which = 0; which < 3; which += 2) {
+            Due.is(what, x.run(which, 100), outcome);
+            if (outcome == 2) {
+                Due.is(what + ": instructions", x.told(which, 1), before);
+                Due.is(what + ": X4", x.register(which, 4), 11);
+                Due.is(what + ": X1", x.register(which, 1), at);
+                Due.is(what + ": outcome", x.told(which, 5), 2);
+            }
+        }
+    }
+
+    private static void faultsOfLoads() {
+        Prog p = begin();
+        long data = p.dataAddress(0);
+        long fixed = p.dataAddress(1);
+        long text = p.textAddress();
+        faults("the last long", 1, data + 32, Word.load(3, 4, 1, 0));
+        faults("over the end", 2, data + 33, Word.load(3, 4, 1, 0));
+        faults("behind the end", 2, data + 40, Word.load(0, 4, 1, 0));
+        faults("the last byte", 1, data + 39, Word.load(0, 4, 1, 0));
+        faults("before the first", 2, data - 1, Word.load(0, 4, 1, 0));
+        faults("over the beginning", 2, data - 1, Word.load(2, 4, 1, 0));
+        faults("at 0", 2, 0, Word.load(0, 4, 1, 0));
+        faults("at -8", 2, -8, Word.load(3, 4, 1, 0));
+        faults("at -1, over the greatest", 2, -1, Word.load(3, 4, 1, 0));
+        faults("what may not be written", 1, fixed, Word.load(3, 4, 1, 16));
+        faults("the TEXT", 1, text, Word.load(2, 4, 1, 0));
+        faults("the TEXT's bytes", 1, text + 3, Word.load(3, 4, 1, 0));
+        faults("before the TEXT", 2, text - 1, Word.load(2, 4, 1, 0));
+        faults("the stack's first byte", 1, STACK - 65536, Word.load(3, 4, 1, 0));
+        faults("before the stack", 2, STACK - 65537, Word.load(3, 4, 1, 0));
+        faults("the stack's last long", 1, STACK - 8, Word.load(3, 4, 1, 0));
+        faults("over the stack's end", 2, STACK - 4, Word.load(3, 4, 1, 0));
+        faults("the stack's end", 2, STACK, Word.load(0, 4, 1, 0));
+        faults("to 31", 2, 0, Word.load(3, 31, 1, 0));
+        faults("a word with sign", 2, data + 37, Word.loadSigned(4, 1, 0));
+    }
+
+    private static void faultsOfStores() {
+        Prog p = begin();
+        long data = p.dataAddress(0);
+        faults("a store", 1, data + 32, Word.store(3, 4, 1, 0));
+        faults("over the end", 2, data + 36, Word.store(3, 4, 1, 0));
+        faults("where nothing may be written", 2, p.dataAddress(1), Word.store(0, 4, 1, 0));
+        faults("into the TEXT", 2, p.textAddress(), Word.store(2, 4, 1, 0));
+        faults("into the stack", 1, STACK - 1, Word.store(0, 4, 1, 0));
+        faults("beyond the stack", 2, STACK - 1, Word.store(2, 4, 1, 0));
+        faults("of 31", 2, 8, Word.store(0, 31, 1, 0));
+    }
+
+    private static void faultsOfPairs() {
+        Prog p = begin();
+        long data = p.dataAddress(0);
+        faults("a pair", 1, data + 24, Word.storePair(2, 4, 5, 1, 0));
+        faults("its second over the end", 2, data + 32, Word.storePair(1, 4, 5, 1, 8));
+        faults("its first before", 2, data, Word.loadPair(3, 4, 5, 1, -8));
+        faults("n does not change", 2, data + 32, Word.loadPair(1, 4, 5, 1, 8));
+        faults("to read alone", 2, p.dataAddress(1), Word.storePair(1, 4, 5, 1, 8));
+        faults("to read", 1, p.dataAddress(1), Word.loadPair(1, 4, 5, 1, 8));
+        Prog q = begin();
+        q.put(Word.movn(4, 0, 0)).number(1, data + 32).put(Word.storePair(2, 4, 5, 1, 0)).label("stay").b("stay");
+        CodeLayout x = read(q);
+        Due.is("a pair that faults", x.run(0, 10), 2);
+        Due.is("its first is not stored", x.memory(0, data + 32), 0);
+    }
+
+    /** BR, BLR and RET are done; the word that they lead to is not fetched. */
+    private static void leads(String what, int outcome, long to, int w, int done) {
+        Prog p = begin();
+        p.number(1, to);
+        int before = p.words.size();
+        p.put(w).label("stay").b("stay");
+        CodeLayout x = read(p);
+        Due.is(what, x.run(0, 100), outcome);
+        Due.is(what + ": instructions", x.told(0, 1), before + done);
+    }
+
+    private static void faultsOfFetching() {
+        Prog p = begin();
+        long text = p.textAddress();
+        leads("BR to 0", 2, 0, Word.br(1), 1);
+        leads("RET to data", 2, p.dataAddress(0), Word.ret(1), 1);
+        leads("BLR to the stack", 2, STACK - 8, Word.blr(1), 1);
+        leads("BR to -4", 2, -4, Word.br(1), 1);
+        leads("BR before the TEXT", 2, text - 4, Word.br(1), 1);
+        leads("BR to no multiple of 4", 2, text + 2, Word.br(1), 1);
+        leads("BR to 31", 2, 5, Word.br(31), 1);
+        leads("RET to the TEXT's end", 2, text + 4 * 5, Word.ret(1), 1);
+        Prog q = begin();
+        q.put(Word.blr(2)).label("stay").b("stay");
+        CodeLayout x = read(q);
+        Due.is("BLR to 0", x.run(0, 9), 2);
+        Due.is("X30", x.register(0, 30), text + 4);
+        Due.is("run 1", x.run(1, 9), 2);
+        Due.is("X30 is RETURN", x.kind(30), 2);
+        Due.is("visits", x.told(0, 0), 1);
+    }
+
+    private static void astray() {
+        Prog p = begin();
+        long text = p.textAddress();
+        leads("BR into a block", 4, text + 4, Word.br(1), 1);
+        leads("RET into a block", 4, text + 4, Word.ret(1), 1);
+        leads("BLR into a block", 4, text + 4, Word.blr(1), 1);
+        Prog q = begin();
+        q.number(1, text + 4).put(Word.br(1)).label("stay").b("stay");
+        CodeLayout x = read(q);
+        Due.is("lay()", x.lay(4, 65536), 65536 * 4 - text + 4 * q.words.size());
+        Due.is("run 0", x.run(0, 9), 4);
+        Due.is("run 1", x.run(1, 9), 3);
+        Due.is("run 2: into the bytes between", x.run(2, 9), 4);
+        Due.is("outcome", x.told(2, 5), 4);
+        Due.is("visits", x.told(2, 0), 1);
+        int bytes = x.lay(4, 4);
+        Due.is("lay()", bytes, 4 * q.words.size());
+        Due.is("run 2: into a block", x.run(2, 9), 4);
+        Prog r = begin();
+        r.number(1, text + 12).put(Word.br(1), Word.NOP, Word.NOP).label("stay").b("stay");
+        CodeLayout y = read(r);
+        Due.is("to a block's first word", y.run(0, 9), 0);
+        Due.is("visits", y.told(0, 0), 9);
+    }
+
+    /** Behind BL the new file has B to NEXT, if that is elsewhere: to return there is not to go astray. */
+    private static void returnsInTheNewFile() {
+        Prog p = begin();
+        p.bl("g").label("next").put(Word.addNumber(0, 0, 1)).exit().label("stay").b("stay");
+        p.function("g").put(Word.movz(0, 40, 0), Word.ret(30));
+        CodeLayout x = read(p);
+        x.edge(p.textAddress(), p.address("g"), 5);
+        x.lay(64, 1024);
+        Due.is("BL's NEXT is cold", x.laid(4), 1);
+        Due.is("run 2", x.run(2, 9), 1);
+        Due.is("X0", x.register(2, 0), 41);
+        Due.is("X30 is behind BL", x.register(2, 30), p.textAddress() + 4);
+        Due.is("one instruction more", x.told(2, 1), 7);
+        Due.is("visits", x.told(2, 0), 3);
+        x.run(1, 9);
+        Due.is("run 1", x.told(1, 1), 6);
+        Due.is("newer(30)", x.newer(30), p.textAddress() + 4);
+        Due.holds("the NEXT's new address is another", x.moved(p.address("next")) > p.textAddress() + 16);
+    }
+
+    private static CodeLayout tell(long from, long many) {
+        Prog p = begin();
+        for (int i = 0; i < 40; i++) {
+            p.data.get(0)[i] = (byte) (255 - i);
+        }
+        p.number(1, from).number(2, many).put(Word.movz(8, 64, 0), Word.CALL).exit().label("stay").b("stay");
+        CodeLayout x = read(p);
+        x.run(0, 9);
+        return x;
+    }
+
+    private static void texts() {
+        Prog p = begin();
+        long data = p.dataAddress(0);
+        CodeLayout x = tell(data + 1, 39);
+        Due.is("outcome", x.told(0, 5), 1);
+        Due.is("X0", x.register(0, 0), 39);
+        Due.is("bytes told", x.told(0, 4), 39);
+        Due.is("the first", x.text(0, 0), 254);
+        Due.is("the last", x.text(0, 38), 216);
+        Due.is("beyond", x.text(0, 39), -1);
+        Due.is("text(0, -1)", x.text(0, -1), -1);
+        Due.is("calls", x.told(0, 3), 2);
+        Due.is("trace X2", x.trace(0, 0, 3), 39);
+        Due.is("too many for the segment", tell(data + 1, 40).told(0, 5), 2);
+        Due.is("then nothing is traced", tell(data + 1, 40).told(0, 3), 0);
+        Due.is("nothing, from nowhere", tell(7, 0).told(0, 5), 1);
+        Due.is("its X0", tell(7, 0).register(0, 0), 0);
+        Due.is("its calls", tell(7, 0).told(0, 3), 2);
+        Due.is("4096 of the stack", tell(STACK - 4096, 4096).register(0, 0), 4096);
+        Due.is("4097 of the stack", tell(STACK - 5000, 4097).register(0, 0), -38);
+        Due.is("-1 bytes", tell(data, -1).register(0, 0), -38);
+        Due.is("-1 bytes told", tell(data, -1).told(0, 4), 0);
+        Due.is("the TEXT", tell(p.textAddress(), 8).told(0, 5), 1);
+        Due.is("the TEXT's bytes", tell(p.textAddress(), 8).told(0, 4), 8);
+        Due.is("the TEXT's first byte", tell(p.textAddress(), 8).text(0, 0), Word.movz(1,
+            (int) p.textAddress() & 0xFFFF, 0) & 255);
+    }
+
+    private static void manyCalls() {
+        Prog p = begin();
+        p.number(3, 260).number(8, 64).number(1, STACK - 100).put(Word.movz(2, 100, 0));
+        p.label("loop").put(Word.CALL, Word.subNumber(3, 3, 1)).cbnz(3, "loop").exit().label("stay").b("stay");
+        CodeLayout x = read(p);
+        for (int which = 0; which < 2; which++) {
+            Due.is("outcome", x.run(which, 4096), 1);
+            Due.is("calls", x.told(which, 3), 261);
+            Due.is("bytes", x.told(which, 4), 26000);
+            Due.is("the call kept last", x.trace(which, 199, 0), 64);
+            Due.is("none behind it", x.trace(which, 200, 0), 0);
+            Due.is("the byte kept last", x.text(which, 16383), 0);
+            Due.is("none behind it", x.text(which, 16384), -1);
+        }
+    }
+
+    private static void memories() {
+        Prog p = begin();
+        long data = p.dataAddress(0);
+        p.number(1, data + 8).number(2, 0x1234).put(Word.store(2, 2, 1, 0), Word.storePair(3, 2, 2, 31, -16)).exit();
+        p.label("stay").b("stay");
+        CodeLayout x = read(p);
+        x.run(0, 9);
+        Due.is("a byte stored", x.memory(0, data + 8), 0x34);
+        Due.is("another", x.memory(0, data + 9), 0x12);
+        Due.is("one as it was", x.memory(0, data), 0);
+        Due.is("what may not be written", x.memory(0, p.dataAddress(1) + 3), 203);
+        Due.is("the stack", x.memory(0, STACK - 16), 0x34);
+        Due.is("the stack's last", x.memory(0, STACK - 1), 0);
+        Due.is("the stack's first", x.memory(0, STACK - 65536), 0);
+        Due.is("beyond the stack", x.memory(0, STACK), -1);
+        Due.is("before the stack", x.memory(0, STACK - 65537), -1);
+        Due.is("behind a segment", x.memory(0, data + 40), -1);
+        Due.is("before a segment", x.memory(0, data - 1), -1);
+        Due.is("the TEXT", x.memory(0, p.textAddress()), -1);
+        Due.is("memory(0, -1)", x.memory(0, -1), -1);
+        Due.is("another run", x.memory(1, data), -1);
+        x.run(0, 0);
+        Due.is("a new run begins with the file's bytes", x.memory(0, data + 8), 0);
+        Due.is("and an empty stack", x.memory(0, STACK - 16), 0);
+        Due.is("and SP", x.register(0, 31), STACK);
+    }
+
+    private static void layForgets() {
+        Prog p = begin().exit().label("stay").b("stay");
+        CodeLayout x = read(p);
+        x.run(0, 9);
+        x.run(1, 9);
+        Due.is("lay() refused", x.lay(3, 4), -1);
+        Due.is("told(0, 5)", x.told(0, 5), 1);
+        x.lay(4, 4);
+        for (int which = 0; which < 3; which++) {
+            Due.is("told()", x.told(which, 5), -14);
+            Due.is("visit()", x.visit(which, 0), -1);
+            Due.is("memory()", x.memory(which, STACK - 1), -1);
+            Due.is("trace()", x.trace(which, 0, 0), 0);
+            Due.is("register()", x.register(which, 8), 0);
+        }
+        Due.is("kind(0)", x.kind(0), -1);
+        Due.is("keeps()", x.keeps(STACK - 8), -1);
+        x.run(2, 9);
+        Due.is("told(2, 5)", x.told(2, 5), 1);
+        Due.is("told(0, 5)", x.told(0, 5), -14);
+    }
+}
