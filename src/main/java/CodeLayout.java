@@ -491,7 +491,11 @@ public final class CodeLayout {
         }
 
         long longAt(int at) {
-            return wordAt(at) & 0xFFFFFFFFL | (long) wordAt(at + 4) << 32;
+            long value = 0;
+            for (int i = 7; i >= 0; i--) {
+                value = value << 8 | byteAt(at + i);
+            }
+            return value;
         }
 
         boolean isZero(int from, int n) {
@@ -860,21 +864,16 @@ public final class CodeLayout {
 
         private boolean infosHold() {
             for (int s = 1; s < sections && s < role.length; s++) {
-                if (role[s] == FIXES && !must(infoHolds(s), sectionHead(s) + 44)) {
+                int info = role[s] == FIXES ? infoOf(s) : 0;
+                boolean holds = role[s] != FIXES || roleAt(info) == TEXT || roleAt(info) == DATA;
+                for (int r = 1; r < s; r++) {
+                    holds = holds && !(role[s] == FIXES && role[r] == FIXES && infoOf(r) == info);
+                }
+                if (!must(holds, sectionHead(s) + 44)) {
                     return false;
                 }
             }
             return true;
-        }
-
-        private boolean infoHolds(int s) {
-            int info = infoOf(s);
-            for (int r = 1; r < s; r++) {
-                if (role[r] == FIXES && infoOf(r) == info) {
-                    return false;
-                }
-            }
-            return roleAt(info) == TEXT || roleAt(info) == DATA;
         }
 
         private boolean namesHold() {
@@ -1062,7 +1061,7 @@ public final class CodeLayout {
             return what == 2 || what == 3 || what == 8 || what == 9 || what == 10;
         }
 
-        private static int memoryKindOf(int w) {
+        static int memoryKindOf(int w) {
             if ((w & 0x3F000000) == 0x39000000) {
                 return loadFits(w) ? LOAD_NUMBER : NONE;
             }
@@ -1520,7 +1519,7 @@ public final class CodeLayout {
         }
 
         private static boolean loadHolds(int w, int width, int low) {
-            return Code.kindOf(w) == Code.LOAD_NUMBER && w >>> 30 == width && Code.numberOf(w) << width == low;
+            return Code.memoryKindOf(w) == Code.LOAD_NUMBER && w >>> 30 == width && Code.numberOf(w) << width == low;
         }
 
         private long goesTo(int i, int kindOf) {
@@ -1710,7 +1709,7 @@ public final class CodeLayout {
         }
 
         int wordsOf(int b) {
-            return hasBlock(b) ? blockStart[b + 1] - blockStart[b] : 0;
+            return b >= 0 && b < blocks ? blockStart[b + 1] - blockStart[b] : 0;
         }
 
         long addressOf(int b) {
@@ -1718,7 +1717,7 @@ public final class CodeLayout {
         }
 
         int ownerOf(int b) {
-            return hasBlock(b) ? functionOf[blockStart[b]] : -1;
+            return b >= 0 && b < blocks ? functionOf[blockStart[b]] : -1;
         }
 
         int blockOfWord(int i) {
@@ -1730,11 +1729,11 @@ public final class CodeLayout {
         }
 
         int endOf(int b) {
-            return hasBlock(b) ? ends[b] : END_NONE;
+            return b >= 0 && b < blocks ? ends[b] : END_NONE;
         }
 
         int goalOf(int b) {
-            return hasBlock(b) ? goals[b] : -1;
+            return b >= 0 && b < blocks ? goals[b] : -1;
         }
 
         boolean isNamed(int b) {
@@ -2272,6 +2271,7 @@ public final class CodeLayout {
         private final int[] spot;
         private final int[] start;
         private final int[] shape;
+        private final int[] aim;
         private final boolean[] isLong;
         private final int[] words;
         private final int[] marks;
@@ -2291,6 +2291,7 @@ public final class CodeLayout {
             spot = new int[of.blocks];
             start = new int[of.blocks];
             shape = new int[of.blocks];
+            aim = new int[of.blocks];
             isLong = new boolean[of.blocks];
             // A block grows by a B put behind it and a B of its long END at most.
             words = new int[of.words.length + 2 * of.blocks];
@@ -2344,6 +2345,7 @@ public final class CodeLayout {
                 isLong[b] = false;
                 boolean rowEnds = k + 1 == hotBlocks || k + 1 >= row.length;
                 shape[b] = shapeOf(b, rowEnds ? -1 : row[k + 1]);
+                aim[b] = shape[b] == TURNED ? program.nextOf(b) : program.goalOf(b);
             }
         }
 
@@ -2389,17 +2391,13 @@ public final class CodeLayout {
                 if (program.endOf(b) == Program.END_CONDITIONAL && !isLong[b]) {
                     int last = program.wordsOf(b) - 1;
                     int kindOf = Code.goingKindOf(program.words[program.blockFrom(b) + last]);
-                    if (!Code.reaches(kindOf, startOf(goesTo(b)) - (start[b] + last))) {
+                    if (!Code.reaches(kindOf, startOf(aim[b]) - (start[b] + last))) {
                         isLong[b] = true;
                         more = true;
                     }
                 }
             }
             return more;
-        }
-
-        private int goesTo(int b) {
-            return shape[b] == TURNED ? program.nextOf(b) : program.goalOf(b);
         }
 
         private int startOf(int b) {
@@ -2447,19 +2445,17 @@ public final class CodeLayout {
             int next = last + 1;
             switch (program.endOf(b)) {
                 case Program.END_B_IN:
+                case Program.END_B_OUT:
                     if (shape[b] == LEFT) {
                         return last;
                     }
-                    put(last, going(w, Code.B, here, program.goalOf(b)));
-                    break;
-                case Program.END_B_OUT:
-                    put(last, going(w, Code.B, here, program.goalOf(b)));
+                    put(last, going(w, Code.B, here, aim[b]));
                     break;
                 case Program.END_CONDITIONAL:
                     next = putConditional(b, last, here);
                     break;
                 case Program.END_BL:
-                    put(last, going(w, Code.BL, here, program.goalOf(b)));
+                    put(last, going(w, Code.BL, here, aim[b]));
                     markReturn(next);
                     break;
                 case Program.END_BLR:
@@ -2479,11 +2475,11 @@ public final class CodeLayout {
             int kindOf = Code.goingKindOf(words[last]);
             int w = shape[b] == TURNED ? Code.turnedOver(words[last], kindOf) : words[last];
             if (!isLong[b]) {
-                put(last, going(w, kindOf, here, goesTo(b)));
+                put(last, going(w, kindOf, here, aim[b]));
                 return last + 1;
             }
             put(last, Code.withDistance(Code.turnedOver(w, kindOf), kindOf, 2));
-            put(last + 1, going(Code.PLAIN_B, Code.B, here + 1, goesTo(b)));
+            put(last + 1, going(Code.PLAIN_B, Code.B, here + 1, aim[b]));
             return last + 2;
         }
 
@@ -2609,6 +2605,7 @@ public final class CodeLayout {
     private static final class Memory {
         static final long STACK_END = 2147483648L;
         private static final int STACK_BYTES = 65536;
+        private static final int CELLS_MOST = TRAY_MOST / 8 + 1 + STACK_BYTES / 8;
         /** From here on spots are those of the TEXT, which no run changes. */
         private static final int TEXT_SPOT = 1 << 28;
         private static final int REGIONS = 5;
@@ -2619,8 +2616,8 @@ public final class CodeLayout {
         private final long[] bytes;
         private final int[] firstSpot;
         private final boolean[] writes;
-        private long[] cells;
-        private byte[] codes;
+        private final long[] cells;
+        private final byte[] codes;
         private final boolean hasCodes;
 
         Memory(boolean withCodes) {
@@ -2629,8 +2626,8 @@ public final class CodeLayout {
             bytes = new long[REGIONS];
             firstSpot = new int[REGIONS];
             writes = new boolean[REGIONS];
-            cells = new long[0];
-            codes = new byte[0];
+            cells = new long[CELLS_MOST];
+            codes = new byte[withCodes ? CELLS_MOST : 0];
         }
 
         void begin(Image file, Program program) {
@@ -2663,15 +2660,10 @@ public final class CodeLayout {
         }
 
         private void fillCells(int dataCells) {
-            int all = dataCells + STACK_BYTES / 8;
-            if (cells.length < all) {
-                cells = new long[all];
-                codes = new byte[hasCodes ? all : 0];
-            }
-            for (int i = 0; i < dataCells; i++) {
+            for (int i = 0; i < dataCells && i < cells.length; i++) {
                 cells[i] = image.longAt(8 * i);
             }
-            Arrays.fill(cells, dataCells, all, 0L);
+            Arrays.fill(cells, Math.min(dataCells, cells.length), cells.length, 0L);
             Arrays.fill(codes, (byte) 0);
         }
 
