@@ -28,6 +28,7 @@ public final class FileRulesTest {
         p.data(4, 40);
         p.noteBytes = 6;
         p.function("main").dataAddress(1, 0, 8).bl("other").label("back").codeAddress(3, "back").exit().b("back");
+        p.put(Word.br(3));
         p.function("other").put(Word.NOP).label("inner").put(Word.ret(30));
         p.pointer(0, 0, "inner").pointer(0, 16, "main").pointerToData(1, 8, 0, 32);
         p.noFix();
@@ -158,6 +159,9 @@ public final class FileRulesTest {
         breaks("sections one by one", with(head(1) + 32, 8, -1).put(head(2) + 4, 4, 9), 3, head(1) + 32);
         breaks("TEXT's ADDRESS", with(head(text) + 16, 8, prog.textAddress() + 2), 3, head(text) + 16);
         breaks("TEXT's SIZE", with(head(text) + 32, 8, 4 * prog.words.size() - 2), 3, head(text) + 32);
+        breaks("TEXT's SIZE as the segment's", with(head(text) + 32, 8, 4 * prog.words.size() - 2).put(
+            Prog.segmentHead(2) + 32, 8, 4 * prog.words.size() - 2).put(Prog.segmentHead(2) + 40, 8,
+            4 * prog.words.size() - 2), 3, head(text) + 32);
         breaks("OFFSET before TEXT's ADDRESS", with(head(text) + 16, 8, 2).put(head(text) + 24, 8, 1), 3,
             head(text) + 24);
     }
@@ -205,6 +209,8 @@ public final class FileRulesTest {
         breaks("OFFSETS before overlaps", with(head(note) + 24, 8, prog.textOffset()).put(
             head(prog.dataFixSection(0)) + 24, 8, prog.fixOffset()), 3, head(note) + 24);
         breaks("a note in the TEXTS", with(head(note) + 24, 8, prog.nameOffset() + 7), 3, head(note) + 24);
+        breaks("DATA over DATA", with(head(2) + 16, 8, prog.dataAddress(0) + 56).put(head(2) + 24, 8,
+            prog.dataOffset(0) + 56).put(head(2) + 32, 8, 8), 3, head(2) + 24);
         breaks("two overlaps", with(head(note) + 24, 8, prog.nameOffset() + 7).put(head(prog.dataFixSection(0)) + 24,
             8, prog.fixOffset()), 3, head(prog.dataFixSection(0)) + 24);
     }
@@ -287,6 +293,11 @@ public final class FileRulesTest {
         takes("ENTRY the last word", with(24, 8, prog.textAddress() + 4 * prog.words.size() - 4));
     }
 
+    /** The sample without the fixes of the second data segment. */
+    private static Bytes withoutDataFixes() {
+        return with(head(prog.dataFixSection(1)) + 32, 8, 0);
+    }
+
     private static void edgesThatHold() {
         int ofData = prog.symbolAt(2);
         int ofText = prog.symbolAt(1);
@@ -300,6 +311,11 @@ public final class FileRulesTest {
         takes("a note that begins where the TEXT ends", with(head(note) + 24, 8, prog.textEnd()).put(head(note) + 32,
             8, prog.fixOffset() - prog.textEnd()));
         takes("the entry may be any word", with(24, 8, prog.textAddress() + 4));
+        int one = Prog.segmentHead(1);
+        takes("a segment of one byte", withoutDataFixes().put(one + 32, 8, 1).put(one + 40, 8, 1).put(head(2) + 32, 8,
+            1));
+        takes("DATA behind DATA", withoutDataFixes().put(head(1) + 32, 8, 48).put(head(2) + 16, 8,
+            prog.dataAddress(0) + 48).put(head(2) + 24, 8, prog.dataOffset(0) + 48).put(head(2) + 32, 8, 16));
         CodeLayout x = new CodeLayout();
         Feeder.feed(x, with(ofData + 6, 2, 65521).bytes);
         Due.is("a symbol of no section", x.read(), 2);

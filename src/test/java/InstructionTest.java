@@ -109,6 +109,12 @@ public final class InstructionTest {
         is("or moved round", 5L << 62 | 1, 0, 5, 0, Word.shifted(Word.or(0, 31, 2), 3, 2));
         is("or moved round by 0", 5, 0, 5, 0, Word.shifted(Word.or(0, 31, 2), 3, 0));
         is("of words moved round", 0x40000001L, 0, 5, 0, Word.narrow(Word.shifted(Word.or(0, 31, 2), 3, 2)));
+        is("a word below 0 moved round", 0x78000001L, 0, 0xF0000002L | 5L << 40, 0,
+            Word.narrow(Word.shifted(Word.or(0, 31, 2), 3, 1)));
+        is("a long below 0 moved round", 0x7800000000000001L, 0, 0xF000000000000002L, 0,
+            Word.shifted(Word.or(0, 31, 2), 3, 1));
+        is("a word below 0 moved right", 0x78000001L, 0, 0xF0000002L, 0,
+            Word.narrow(Word.shifted(Word.or(0, 31, 2), 1, 1)));
         is("of words moved round by 0", 5, 0, 5L | 1L << 33, 0, Word.narrow(Word.shifted(Word.or(0, 31, 2), 3, 0)));
         is("turned over behind moving", ~40L, 0, 10, 0, Word.turned(Word.shifted(Word.or(0, 31, 2), 0, 2)));
         flags("and with flags, 0", 4, 12, 3, Word.ands(0, 1, 2));

@@ -94,6 +94,8 @@ public final class TakeApartTest {
             Feeder.feed(x, with(word(13), 4, w).bytes);
             Due.is("an instruction " + Integer.toHexString(w), x.read(), 2);
         }
+        breaks("the first word", with(word(0), 4, 0), 8, word(0));
+        breaks("the last word", with(word(19), 4, 0), 8, word(19));
         breaks("the first of two words", with(word(13), 4, 0).put(word(8), 4, 0), 8, word(8));
         breaks("rule 8 before 9", with(word(13), 4, 0).put(word(0), 4, Word.NOP), 8, word(13));
     }
