@@ -123,7 +123,7 @@ public final class CodeLayout {
     }
 
     public long function(int f, int what) {
-        if (program == null || !program.hasFunction(f) || what < 0 || what > 3) {
+        if (program == null || counts == null || !program.hasFunction(f) || what < 0 || what > 3) {
             return NOTHING;
         }
         switch (what) {
@@ -139,7 +139,7 @@ public final class CodeLayout {
     }
 
     public long block(int b, int what) {
-        if (program == null || !program.hasBlock(b) || what < 0 || what > 7) {
+        if (program == null || counts == null || !program.hasBlock(b) || what < 0 || what > 7) {
             return NOTHING;
         }
         switch (what) {
@@ -163,7 +163,7 @@ public final class CodeLayout {
     }
 
     public int edge(long from, long to, int count) {
-        if (program == null) {
+        if (program == null || counts == null) {
             return NOTHING;
         }
         if (count < 1 || count > COUNT_MOST) {
@@ -189,15 +189,15 @@ public final class CodeLayout {
     }
 
     public long way(int u, int v) {
-        return program == null ? 0 : counts.timesOfWay(u, v);
+        return counts == null ? 0 : counts.timesOfWay(u, v);
     }
 
     public long calls(int f, int g) {
-        return program == null ? 0 : counts.timesOfCalls(f, g);
+        return counts == null ? 0 : counts.timesOfCalls(f, g);
     }
 
     public int lay(int page, int apart) {
-        if (program == null) {
+        if (program == null || counts == null) {
             return NOTHING;
         }
         if (page < 4 || page > PAGE_MOST || apart < 4 || apart > APART_MOST || (apart & apart - 1) != 0) {
@@ -237,14 +237,14 @@ public final class CodeLayout {
     }
 
     public long weight(int f, int what) {
-        if (layout == null || ordering == null || !program.hasFunction(f) || what < 0 || what > 1) {
+        if (program == null || ordering == null || !program.hasFunction(f) || what < 0 || what > 1) {
             return NOTHING;
         }
         return what == 0 ? ordering.weightByNumber(f) : ordering.weightAsLaid(f);
     }
 
     public long moved(long address) {
-        if (layout == null || program.wordAtAddress(address) < 0) {
+        if (program == null || layout == null || program.wordAtAddress(address) < 0) {
             return NOTHING;
         }
         return layout.newAddress(address);
@@ -293,7 +293,7 @@ public final class CodeLayout {
             machines[which] = new Machine(which == 1);
         }
         int newBytes = layout != null ? layout.newBytes() : program.textBytes();
-        if (which == 2) {
+        if (which == 2 && layout != null) {
             machines[which].begin(program, layout.image, layout.newAddress(program.entry), newBytes);
         } else {
             machines[which].begin(program, program.image, program.entry, newBytes);
@@ -378,12 +378,12 @@ public final class CodeLayout {
     }
 
     public long newest(long address) {
+        Machine machine = latest(1);
         int code = keeps(address);
-        if (code != Machine.START && code != Machine.RETURN) {
+        if (machine == null || code < 0) {
             return 0;
         }
-        Memory memory = machines[1].memory;
-        return newOfCode(code, memory.load(memory.spotOf(address, 8), 8));
+        return newOfCode(code, machine.memory.load(machine.memory.spotOf(address, 8), 8));
     }
 
     public long trace(int which, int k, int what) {
