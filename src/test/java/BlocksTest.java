@@ -11,6 +11,7 @@ public final class BlocksTest {
         stopsOfPairs();
         stopsOfAddresses();
         stopsOfCalls();
+        codeAtTheEnd();
         stopsBeforeFaults();
         newTextCounts();
         chosen();
@@ -255,6 +256,25 @@ public final class BlocksTest {
             Word.CALL));
         ran(2, "a text before the TEXT", begin().number(1, text - 2).put(Word.movz(2, 2, 0), Word.movz(8, 64, 0),
             Word.CALL));
+    }
+
+    /** CODE at a segment's end, and far in a text. */
+    private static void codeAtTheEnd() {
+        Prog p = new Prog();
+        p.data(6, 400);
+        p.function("f").dataAddress(1, 0, 0).put(Word.movz(2, 393, 0), Word.movz(8, 64, 0), Word.CALL);
+        p.exit().label("stay").b("stay").pointer(0, 392, "stay");
+        CodeLayout x = Feeder.read(p.file(), 1);
+        Due.is("a text with the first byte of the last long", x.run(1, 9), 3);
+        Due.is("run 0", x.run(0, 9), 1);
+        Prog q = new Prog();
+        q.data(6, 400);
+        q.function("f").dataAddress(1, 0, 0).put(Word.movz(2, 392, 0), Word.movz(8, 64, 0), Word.CALL);
+        q.put(Word.movz(3, 396, 0), Word.loadAt(0, 4, 1, 3, false));
+        q.exit().label("stay").b("stay").pointer(0, 392, "stay");
+        CodeLayout y = Feeder.read(q.file(), 1);
+        Due.is("a byte of the last long", y.run(1, 9), 3);
+        Due.is("the text before it was told", y.told(1, 4), 392);
     }
 
     private static void stopsBeforeFaults() {

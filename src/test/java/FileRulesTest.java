@@ -124,6 +124,13 @@ public final class FileRulesTest {
         breaks("SIZE too much", with(first + 32, 8, 4194305), 2, first + 32);
         breaks("SIZE beyond SHOFF", with(last + 32, 8, prog.headsOffset() - prog.textOffset() + 1), 2, last + 32);
         breaks("SIZE negative", with(last + 32, 8, -4), 2, last + 32);
+        int most = prog.headsOffset() - prog.textOffset();
+        breaks("SIZE up to SHOFF is the TEXT's no more", with(last + 32, 8, most).put(last + 40, 8, most), 3,
+            head(prog.textSection()) + 32);
+        breaks("the least ADDRESS is the DATA's no more", with(first + 16, 8, 65536).put(first + 24, 8, 65536), 3,
+            head(1) + 16);
+        breaks("the greatest ADDRESS is the TEXT's no more", with(last + 16, 8, 134217728).put(last + 24, 8,
+            134217728), 3, head(prog.textSection()) + 16);
         breaks("SIZE again", with(first + 40, 8, 63), 2, first + 40);
         breaks("align", with(first + 48, 8, 8), 2, first + 48);
         breaks("heads one by one", with(first + 48, 8, 8).put(second, 4, 2), 2, first + 48);
@@ -150,7 +157,8 @@ public final class FileRulesTest {
         breaks("FLAGS of SYMBOLS", with(head(prog.symbolSection()) + 8, 8, 6), 3, head(prog.symbolSection()) + 8);
         breaks("OFFSET low", with(head(1) + 24, 8, 64 + 56 * 3 - 1), 3, head(1) + 24);
         breaks("OFFSET huge", with(head(1) + 24, 8, -1), 3, head(1) + 32);
-        breaks("SIZE beyond", with(head(note) + 32, 8, 4000), 3, head(note) + 32);
+        breaks("SIZE beyond", with(head(note) + 32, 8, prog.headsOffset() - prog.nameOffset() - 8 + 1), 3,
+            head(note) + 32);
         breaks("SIZE huge", with(head(note) + 32, 8, -1), 3, head(note) + 32);
         breaks("OFFSET beyond", with(head(note) + 24, 8, prog.headsOffset() + 1).put(head(note) + 32, 8, 0), 3,
             head(note) + 32);
@@ -176,6 +184,7 @@ public final class FileRulesTest {
         breaks("FIXES' SIZE", with(head(fixes) + 32, 8, 23), 3, head(fixes) + 32);
         breaks("FIXES' ENTSIZE", with(head(fixes) + 56, 8, 0), 3, head(fixes) + 56);
         breaks("TEXTS' SIZE 0", with(head(names) + 32, 8, 0), 3, head(names) + 32);
+        breaks("TEXTS of one byte lack but names", with(head(names) + 32, 8, 1), 3, head(1));
         breaks("TEXTS' first byte", with(prog.nameOffset(), 1, 1), 3, prog.nameOffset());
         breaks("TEXTS' last byte", with(prog.nameOffset() + 7, 1, 1), 3, prog.nameOffset() + 7);
         breaks("TEXTS' first before last", with(prog.nameOffset(), 8, -1), 3, prog.nameOffset());
@@ -268,6 +277,8 @@ public final class FileRulesTest {
         breaks("PLACE before", with(fix, 8, prog.textAddress() - 4), 5, fix);
         breaks("PLACE behind", with(fix, 8, prog.textAddress() + 4 * prog.words.size()), 5, fix);
         breaks("PLACE no multiple of 4", with(fix, 8, prog.textAddress() + 2), 5, fix);
+        breaks("PLACE odd", with(fix, 8, prog.textAddress() + 1), 5, fix);
+        breaks("PLACE in DATA odd", with(ofData, 8, prog.dataAddress(0) + 1), 5, ofData);
         breaks("PLACE negative", with(fix, 8, -4), 5, fix);
         breaks("PLACE before the symbol", with(fix, 8, 0).put(fix + 12, 4, 999), 5, fix);
         breaks("symbol", with(fix + 12, 4, prog.symbolCount()), 5, fix + 12);
@@ -314,6 +325,9 @@ public final class FileRulesTest {
         int one = Prog.segmentHead(1);
         takes("a segment of one byte", withoutDataFixes().put(one + 32, 8, 1).put(one + 40, 8, 1).put(head(2) + 32, 8,
             1));
+        long end = prog.dataAddress(0) + 64;
+        takes("a segment that begins where one ends", withoutDataFixes().put(one + 16, 8, end).put(one + 24, 8, end)
+            .put(head(2) + 16, 8, end));
         takes("DATA behind DATA", withoutDataFixes().put(head(1) + 32, 8, 48).put(head(2) + 16, 8,
             prog.dataAddress(0) + 48).put(head(2) + 24, 8, prog.dataOffset(0) + 48).put(head(2) + 32, 8, 16));
         CodeLayout x = new CodeLayout();

@@ -152,6 +152,7 @@ public final class InstructionTest {
         is("without sign, an odd half", (-7L >>> 1) / 5 * 2 + 1, -7, 5, 0, Word.two(0, 1, 2, 2));
         is("without sign by 0", 0, -1, 0, 0, Word.two(0, 1, 2, 2));
         is("without sign of words", 0x55555555L, -1, 3, 0, Word.narrow(Word.two(0, 1, 2, 2)));
+        is("of a word with bits above", 3, 1L << 32 | 7, 2, 0, Word.narrow(Word.two(0, 1, 2, 2)));
         is("words by a high bit alone", 0, 7, 1L << 32, 0, Word.narrow(Word.two(0, 1, 2, 2)));
         is("with sign", -2, -7, 3, 0, Word.two(0, 1, 2, 3));
         is("with sign by 0", 0, -7, 0, 0, Word.two(0, 1, 2, 3));

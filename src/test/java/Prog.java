@@ -37,6 +37,8 @@ final class Prog {
     private final List<long[]> extraSymbols = new ArrayList<>();
     String entry;
     int noteBytes;
+    /** The segments' addresses begin so much higher. */
+    long higher;
 
     int data(int flags, int bytes) {
         data.add(new byte[bytes]);
@@ -227,7 +229,7 @@ final class Prog {
     }
 
     long dataAddress(int segment) {
-        return 65536L * (segment + 1) + dataOffset(segment);
+        return higher + 65536L * (segment + 1) + dataOffset(segment);
     }
 
     int textOffset() {
@@ -235,7 +237,7 @@ final class Prog {
     }
 
     long textAddress() {
-        return 65536L * segments() + textOffset();
+        return higher + 65536L * segments() + textOffset();
     }
 
     long address(String label) {
@@ -284,6 +286,27 @@ final class Prog {
 
     static int segmentHead(int i) {
         return 64 + 56 * i;
+    }
+
+    /** A file with its sections in another order: section s becomes section to[s]. */
+    byte[] reordered(int[] to) {
+        Bytes old = new Bytes(file());
+        Bytes out = new Bytes(old.bytes);
+        for (int s = 1; s < sections(); s++) {
+            for (int i = 0; i < 64; i++) {
+                out.put(sectionHead(to[s]) + i, 1, old.get(sectionHead(s) + i, 1));
+            }
+            int type = (int) old.get(sectionHead(s) + 4, 4);
+            if (type == 2 || type == 4) {
+                out.put(sectionHead(to[s]) + 40, 4, to[(int) old.get(sectionHead(s) + 40, 4)]);
+                out.put(sectionHead(to[s]) + 44, 4, to[(int) old.get(sectionHead(s) + 44, 4)]);
+            }
+        }
+        for (int k = 0; k < symbolCount(); k++) {
+            int section = (int) old.get(symbolAt(k) + 6, 2);
+            out.put(symbolAt(k) + 6, 2, section < to.length ? to[section] : section);
+        }
+        return out.put(62, 2, to[nameSection()]).bytes;
     }
 
     byte[] file() {

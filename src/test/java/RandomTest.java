@@ -30,9 +30,34 @@ public final class RandomTest {
         rowsHold(x);
         runsAgree(x);
         fileHolds(x, prog, bytes);
+        inAnotherOrder(x, prog, random);
         int short1 = 1 + random.nextInt(40);
         Due.is("run(0, few)", x.run(0, short1), x.run(2, short1));
         Due.is("visits of few", x.told(0, 0), x.told(2, 0));
+    }
+
+    /** The order of sections says nothing. */
+    private static void inAnotherOrder(CodeLayout x, Prog prog, Random random) {
+        int[] to = new int[prog.sections()];
+        for (int s = 1; s < to.length; s++) {
+            int k = 1 + random.nextInt(s);
+            to[s] = to[k];
+            to[k] = s;
+        }
+        CodeLayout y = Feeder.read(prog.reordered(to), x.count(0));
+        for (int b = 0; b < x.count(1); b++) {
+            Due.is("address of a block", y.block(b, 0), x.block(b, 0));
+            Due.is("whether it is named", y.block(b, 6), x.block(b, 6));
+        }
+        Due.is("fixes", y.count(4), x.count(4));
+        Due.is("run(1)", y.run(1, 4096), 1);
+        Due.is("instructions", y.told(1, 1), x.told(1, 1));
+        y.edge(y.block(0, 0) + 4 * y.block(0, 1) - 4, y.block(0, 0) + 4 * y.block(0, 1), 3);
+        y.lay(64, 64);
+        Due.is("check()", y.check(), 0);
+        Due.holds("same()", y.same());
+        Due.is("run(2)", y.run(2, 4096), 1);
+        Due.is("visits", y.told(2, 0), x.told(2, 0));
     }
 
     private static void tellWays(CodeLayout x, Random random) {

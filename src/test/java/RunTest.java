@@ -14,6 +14,7 @@ public final class RunTest {
         texts();
         manyCalls();
         memories();
+        textLoaded();
         layForgets();
         Due.end("RunTest");
     }
@@ -64,7 +65,8 @@ public final class RunTest {
     }
 
     private static void manyWords() {
-        for (int words = 99; words < 103; words++) {
+        for (int words : new int[] {99, 100, 101, 113, 4999, 5000, 5001}) {
+            // 113 times 177 is 20001.
             Prog p = begin();
             for (int i = 1; i < words; i++) {
                 p.put(Word.NOP);
@@ -175,7 +177,7 @@ public final class RunTest {
         leads("BR before the TEXT", 2, text - 4, Word.br(1), 1);
         leads("BR to no multiple of 4", 2, text + 2, Word.br(1), 1);
         leads("BR to 31", 2, 5, Word.br(31), 1);
-        leads("RET to the TEXT's end", 2, text + 4 * 5, Word.ret(1), 1);
+        leads("RET to the TEXT's end", 2, text + 4 * 4, Word.ret(1), 1);
         Prog q = begin();
         q.put(Word.blr(2)).label("stay").b("stay");
         CodeLayout x = read(q);
@@ -256,6 +258,7 @@ public final class RunTest {
         Due.is("calls", x.told(0, 3), 2);
         Due.is("trace X2", x.trace(0, 0, 3), 39);
         Due.is("too many for the segment", tell(data + 1, 40).told(0, 5), 2);
+        Due.is("one byte from nowhere", tell(7, 1).told(0, 5), 2);
         Due.is("then nothing is traced", tell(data + 1, 40).told(0, 3), 0);
         Due.is("nothing, from nowhere", tell(7, 0).told(0, 5), 1);
         Due.is("its X0", tell(7, 0).register(0, 0), 0);
@@ -311,6 +314,25 @@ public final class RunTest {
         Due.is("a new run begins with the file's bytes", x.memory(0, data + 8), 0);
         Due.is("and an empty stack", x.memory(0, STACK - 16), 0);
         Due.is("and SP", x.register(0, 31), STACK);
+    }
+
+    /** What the TEXT holds, and in the new file the bytes between the rows. */
+    private static void textLoaded() {
+        Prog p = begin();
+        long text = p.textAddress();
+        p.number(1, text).put(Word.load(3, 2, 1, 0), Word.addNumber(1, 1, 3), Word.load(3, 3, 1, 0));
+        p.number(4, text + 512).put(Word.load(0, 5, 4, 0)).exit().label("stay").b("stay");
+        Bytes file = new Bytes(p.file());
+        CodeLayout x = read(p);
+        Due.is("run 0 faults behind the TEXT", x.run(0, 9), 2);
+        Due.is("words", x.register(0, 2), file.get(p.textOffset(), 8));
+        Due.is("words not at it", x.register(0, 3), file.get(p.textOffset() + 3, 8));
+        x.edge(p.address("stay"), p.address("stay"), 1);
+        x.lay(4, 65536);
+        Due.is("run 2 loads bytes between", x.run(2, 9), 1);
+        Due.is("B and what is between", x.register(2, 2), (long) Prog.B);
+        Due.is("not at it", x.register(2, 3), Prog.B >>> 24);
+        Due.is("between", x.register(2, 5), 0);
     }
 
     private static void layForgets() {

@@ -114,6 +114,10 @@ public final class TakeApartTest {
         breaks("275 no ADRP", with(word(0), 4, Word.NOP), 9, fix(0));
         breaks("275 another page", changed(0, 1 << 29), 9, fix(0));
         breaks("275 a high TARGET", with(fix(0) + 16, 8, 1L << 31), 9, fix(0));
+        breaks("275 a TARGET just too high", highPage(1L << 31), 9, fix(0));
+        CodeLayout high = new CodeLayout();
+        Feeder.feed(high, highPage((1L << 31) - 1).bytes);
+        Due.is("275 the highest TARGET", high.read(), 2);
         breaks("277 another number", changed(1, 1 << 10), 9, fix(1));
         breaks("277 SUB", changed(1, 1 << 30), 9, fix(1));
         breaks("277 with flags", changed(1, 1 << 29), 9, fix(1));
@@ -141,6 +145,13 @@ public final class TakeApartTest {
         CodeLayout x = new CodeLayout();
         Feeder.feed(x, with(word(3), 4, signed).bytes);
         Due.is("285 at a load with sign", x.read(), 2);
+    }
+
+    /** Makes the ADRP of the first word tell a page by symbol 0, which is at 0. */
+    private static Bytes highPage(long target) {
+        long pages = (target >> 12) - (prog.textAddress() >> 12);
+        int w = 0x90000001 | (int) (pages & 3) << 29 | (int) (pages >> 2 & 0x7FFFF) << 5;
+        return with(word(0), 4, w).put(fix(0) + 12, 4, 0).put(fix(0) + 16, 8, target);
     }
 
     /** Makes the TARGET of the fix 278 a byte of the TEXT with the same low bits. */
@@ -249,6 +260,13 @@ public final class TakeApartTest {
         CodeLayout y = Feeder.read(with(word(19), 4, Word.br(3)).bytes, 2);
         Due.is("BR", y.block(first + 2, 3), 6);
         Due.is("BR's TAKEN", y.block(first + 2, 5), -1);
+        Prog late = new Prog();
+        late.function("a").put(Word.NOP, Word.ret(30));
+        late.function("b").put(Word.ret(30));
+        late.entry = "b";
+        Due.is("functions alone make blocks", Feeder.read(late.file(), 2).count(1), 2);
+        breaks("the first word goes away", new Bytes(late.file()).put(late.textOffset(), 4, 0x54000060), 11,
+            late.textOffset());
         Prog p = new Prog();
         p.function("a").b("a");
         CodeLayout z = Feeder.read(p.file(), 1);

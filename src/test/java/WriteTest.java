@@ -8,6 +8,8 @@ public final class WriteTest {
         nothingHot();
         allCold();
         longWords();
+        reach();
+        firstLeftOut();
         fixedWords();
         fixesThatMove();
         symbolsThatMove();
@@ -201,6 +203,78 @@ public final class WriteTest {
         far = (int) ((further + 4 - a - 4) / 4);
         words(x, p, 0xB7400041, Prog.B | far, Word.NOP, 0x5400004B, Prog.B | far - 3, Prog.B | far - 5);
         turnedAndLong();
+    }
+
+    /** Each distance around the farthest that a word can tell, forwards and backwards. */
+    private static void reach() {
+        for (int fill = 1; fill < 120; fill++) {
+            forwards(fill, true);
+            forwards(fill, false);
+            backwards(fill, true);
+            backwards(fill, false);
+        }
+    }
+
+    private static Prog conditional(Prog p, boolean tbz, String label) {
+        return tbz ? p.tbz(1, 5, label) : p.cbz(1, label);
+    }
+
+    private static Prog fill(Prog p, int words) {
+        for (int i = 0; i < words; i++) {
+            p.put(Word.NOP);
+        }
+        return p;
+    }
+
+    /** Hot: two words and the END, RET. Cold: some words with B, then what the END goes to. */
+    private static void forwards(int words, boolean tbz) {
+        Prog p = new Prog();
+        p.higher = 1048576 - 65536;
+        p.function("f").put(Word.NOP, Word.NOP);
+        conditional(p, tbz, "c").put(Word.ret(30));
+        fill(p, words).b("c").label("c").put(Word.ret(30));
+        CodeLayout x = Feeder.read(p.file(), 1);
+        edge(x, 0, 1, 1);
+        int apart = tbz ? 32768 : 1048576;
+        x.lay(64, apart);
+        long a = p.textAddress();
+        long start = (a + 16 + apart - 1) / apart * apart;
+        long shortWay = (start + 4 * words + 4 - (a + 8)) / 4;
+        long limit = tbz ? 8192 : 262144;
+        Due.is("long forwards by " + shortWay, x.laid(1), shortWay >= limit ? 1 : 0);
+        Due.is("strays()", x.strays(), 0);
+    }
+
+    /** Hot: some words with RET. Cold: words, then an END that goes back to the hot ones. */
+    private static void backwards(int words, boolean tbz) {
+        Prog p = new Prog();
+        p.higher = 1048576 - 65536;
+        p.function("f").cbz(2, "h");
+        fill(p, words);
+        conditional(p, tbz, "h").put(Word.ret(30)).label("h").put(Word.ret(30));
+        CodeLayout x = Feeder.read(p.file(), 1);
+        edge(x, 0, 3, 1);
+        int apart = tbz ? 32768 : 1048576;
+        x.lay(64, apart);
+        long a = p.textAddress();
+        long start = (a + 8 + apart - 1) / apart * apart;
+        long way = (a + 4 - (start + 4 * words)) / 4;
+        long limit = tbz ? 8192 : 262144;
+        Due.is("long backwards by " + way, x.laid(1), way < -limit ? 1 : 0);
+        Due.is("strays()", x.strays(), 0);
+    }
+
+    /** A fix at the END of the first block, which is left out. */
+    private static void firstLeftOut() {
+        Prog p = new Prog();
+        p.function("f").put(Word.NOP).bFixed("d").put(Word.NOP).label("d").put(Word.ret(30));
+        CodeLayout x = Feeder.read(p.file(), 1);
+        edge(x, 0, 2, 1);
+        x.lay(4, 4);
+        row(x, 0, 2, 1);
+        laid(x, 2, 0, 1, 0, 1);
+        int fix = p.fixOffset() + x.size() - p.file().length;
+        Due.is("its fix", out(x, fix, 8) | out(x, fix + 8, 8) | out(x, fix + 16, 8), 0);
     }
 
     /** TAKEN is right behind, NEXT far away: turned over for that, and again for being long. */
