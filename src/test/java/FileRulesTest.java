@@ -318,6 +318,8 @@ public final class FileRulesTest {
         takes("symbol's SIZE that may be any", with(ofText + 16, 8, -1));
         takes("DATA of flags 2 in a segment of flags 6", with(head(1) + 8, 8, 2));
         takes("an empty note inside others", with(head(note) + 24, 8, prog.fixOffset() + 4).put(head(note) + 32, 8, 0));
+        takes("empty FIXES inside others", withoutDataFixes().put(head(prog.dataFixSection(1)) + 24, 8,
+            prog.symbolOffset() + 8));
         takes("an empty note at the end", with(head(note) + 24, 8, prog.headsOffset()).put(head(note) + 32, 8, 0));
         takes("a note that begins where the TEXT ends", with(head(note) + 24, 8, prog.textEnd()).put(head(note) + 32,
             8, prog.fixOffset() - prog.textEnd()));

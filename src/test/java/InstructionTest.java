@@ -146,6 +146,8 @@ public final class InstructionTest {
 
     private static void quotients() {
         is("without sign", 0x5555555555555555L, -1, 3, 0, Word.two(0, 1, 2, 2));
+        is("without sign, even", 4, 9, 2, 0, Word.two(0, 1, 2, 2));
+        is("without sign, even and great", 0x7FFFFFFFFFFFFFFEL, -3, 2, 0, Word.two(0, 1, 2, 2));
         is("without sign by what is great", 1, -1, -2, 0, Word.two(0, 1, 2, 2));
         is("without sign of what is less", 0, -3, -2, 0, Word.two(0, 1, 2, 2));
         is("without sign by 1", -7, -7, 1, 0, Word.two(0, 1, 2, 2));

@@ -15,6 +15,8 @@ public final class RunTest {
         manyCalls();
         memories();
         textLoaded();
+        fourSegments();
+        manyPages();
         layForgets();
         Due.end("RunTest");
     }
@@ -314,6 +316,45 @@ public final class RunTest {
         Due.is("a new run begins with the file's bytes", x.memory(0, data + 8), 0);
         Due.is("and an empty stack", x.memory(0, STACK - 16), 0);
         Due.is("and SP", x.register(0, 31), STACK);
+    }
+
+    /** ADRP beyond the TEXT's first page. */
+    private static void manyPages() {
+        Prog p = begin();
+        for (int i = 0; i < 1200; i++) {
+            p.put(Word.NOP);
+        }
+        p.dataAddress(1, 0, 8).codeAddress(3, "stay").exit().label("stay").b("stay");
+        CodeLayout x = read(p);
+        x.lay(4, 8192);
+        for (int which = 0; which < 3; which++) {
+            Due.is("outcome", x.run(which, 9), 1);
+            Due.is("data", x.register(which, 1), p.dataAddress(0) + 8);
+            Due.is("code", x.register(which, 3), which == 2 ? x.moved(p.address("stay")) : p.address("stay"));
+        }
+    }
+
+    /** As many segments as there may be, one right behind another. */
+    private static void fourSegments() {
+        Prog p = new Prog();
+        p.data(6, 16);
+        p.data(6, 24);
+        p.data(6, 16);
+        p.function("f").dataAddress(1, 0, 0).dataAddress(2, 1, 16).dataAddress(3, 2, 8).number(4, 0x77);
+        p.put(Word.store(0, 4, 1, 15), Word.store(3, 4, 2, 0), Word.store(0, 4, 3, 7)).put(Word.load(3, 5, 2, 8));
+        p.exit().label("stay").b("stay").pointer(2, 0, "stay");
+        CodeLayout x = read(p);
+        x.lay(4, 4096);
+        for (int which = 0; which < 3; which++) {
+            Due.is("a long behind the second segment", x.run(which, 9), 2);
+            Due.is("first segment", x.memory(which, p.dataAddress(0) + 15), 0x77);
+            Due.is("second segment", x.memory(which, p.dataAddress(1) + 16), 0x77);
+            Due.is("third segment", x.memory(which, p.dataAddress(2) + 15), 0x77);
+            Due.is("behind the second", x.memory(which, p.dataAddress(1) + 24), -1);
+        }
+        Due.is("a pointer in the third", x.keeps(p.dataAddress(2)), 1);
+        Due.is("its new address", x.newest(p.dataAddress(2)), x.moved(p.address("stay")));
+        Due.is("check()", x.check(), 0);
     }
 
     /** What the TEXT holds, and in the new file the bytes between the rows. */

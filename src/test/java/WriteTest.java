@@ -178,6 +178,10 @@ public final class WriteTest {
         Due.is("SIZE of what is where the first block is", out(x, shift + p.symbolAt(2) + 16, 8), 12);
         Due.is("VALUE", out(x, shift + p.symbolAt(2) + 8, 8), start);
         Due.is("D is a multiple of 16", shift & 15, 0);
+        for (int i = at + 12; i < p.textEnd() + shift; i++) {
+            Due.is("a byte behind the new TEXT", x.out(i), 0);
+        }
+        Due.holds("there are some", at + 12 < p.textEnd() + shift);
         Due.holds("and the least", shift >= x.lay(65536, 65536) - 20 && shift < x.lay(65536, 65536) - 20 + 16);
     }
 
