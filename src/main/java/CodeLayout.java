@@ -2795,7 +2795,6 @@ public final class CodeLayout {
         int flags;
         private long pc;
         private long next;
-        private boolean leapt;
         int outcome;
         int visits;
         private final int[] visited;
@@ -2830,7 +2829,6 @@ public final class CodeLayout {
             x[SP] = Memory.STACK_END;
             flags = 0;
             pc = entry;
-            leapt = false;
             outcome = RUNNING;
             visits = 0;
             wordsVisited = 0;
@@ -2853,19 +2851,13 @@ public final class CodeLayout {
                 outcome = FAULT;
                 return;
             }
-            int mark = i < 0 ? Image.NO_MARK : image.markOf(i);
-            if (leapt && mark == Image.NO_MARK) {
-                outcome = ASTRAY;
-                return;
-            }
+            int mark = image.markOf(i);
             if (mark >= 0 && !visitBlock(mark, visitsMost)) {
                 outcome = USED_UP;
                 return;
             }
-            int w = i < 0 ? 0 : image.wordOf(i);
             next = pc + 4;
-            leapt = false;
-            perform(w, i);
+            perform(image.wordOf(i), i);
             if (outcome == RUNNING || outcome == ENDED) {
                 done++;
                 pc = next;
@@ -2970,11 +2962,22 @@ public final class CodeLayout {
                 outcome = STOPPED;
                 return;
             }
-            next = numberIn(n);
-            leapt = !ofBlocks;
+            long to = numberIn(n);
+            if (!ofBlocks && isAstray(to)) {
+                outcome = ASTRAY;
+                return;
+            }
+            next = to;
             if (links) {
                 linkHere();
             }
+        }
+
+        /** Beyond the TEXT nothing is astray: there the fetch of the next word faults. */
+        private boolean isAstray(long to) {
+            long distance = to - program.base;
+            boolean inText = distance >= 0 && distance < 4L * image.allWords;
+            return inText && image.markOf(image.indexAt(distance)) == Image.NO_MARK;
         }
 
         private void linkHere() {

@@ -10,6 +10,8 @@ public final class RunTest {
         faultsOfPairs();
         faultsOfFetching();
         astray();
+        astrayInTheNewFile();
+        behindCalls();
         returnsInTheNewFile();
         texts();
         manyCalls();
@@ -158,28 +160,44 @@ public final class RunTest {
         Due.is("its first is not stored", x.memory(0, data + 32), 0);
     }
 
-    /** BR, BLR and RET are done; the word that they lead to is not fetched. */
-    private static void leads(String what, int outcome, long to, int w, int done) {
+    /** BR, BLR or RET to an address; the new file is as the old one. */
+    private static CodeLayout leads(String what, int outcome, long to, int w, int done) {
         Prog p = begin();
-        p.number(1, to);
+        p.put(Word.movz(30, 7, 0)).number(1, to);
         int before = p.words.size();
         p.put(w).label("stay").b("stay");
         CodeLayout x = read(p);
-        Due.is(what, x.run(0, 100), outcome);
-        Due.is(what + ": instructions", x.told(0, 1), before + done);
+        Due.is(what + ": lay()", x.lay(4, 4), 4 * p.words.size());
+        for (int which = 0; which < 3; which += 2) {
+            Due.is(what, x.run(which, 1), outcome);
+            Due.is(what + ": outcome", x.told(which, 5), outcome);
+            Due.is(what + ": visits", x.told(which, 0), 1);
+            Due.is(what + ": instructions", x.told(which, 1), before + done);
+            boolean links = w == Word.blr(1) && done == 1;
+            Due.is(what + ": X30", x.register(which, 30), links ? p.textAddress() + 4 * before + 4 : 7);
+        }
+        return x;
+    }
+
+    /** Beyond the TEXT BR, BLR and RET are done; the word that they lead to is not fetched. */
+    private static void fetchFaults(String what, long to, int w) {
+        leads(what, 2, to, w, 1);
     }
 
     private static void faultsOfFetching() {
         Prog p = begin();
         long text = p.textAddress();
-        leads("BR to 0", 2, 0, Word.br(1), 1);
-        leads("RET to data", 2, p.dataAddress(0), Word.ret(1), 1);
-        leads("BLR to the stack", 2, STACK - 8, Word.blr(1), 1);
-        leads("BR to -4", 2, -4, Word.br(1), 1);
-        leads("BR before the TEXT", 2, text - 4, Word.br(1), 1);
-        leads("BR to no multiple of 4", 2, text + 2, Word.br(1), 1);
-        leads("BR to 31", 2, 5, Word.br(31), 1);
-        leads("RET to the TEXT's end", 2, text + 4 * 4, Word.ret(1), 1);
+        fetchFaults("BR to 0", 0, Word.br(1));
+        fetchFaults("RET to data", p.dataAddress(0), Word.ret(1));
+        fetchFaults("BLR to the stack", STACK - 8, Word.blr(1));
+        fetchFaults("BR to -4", -4, Word.br(1));
+        fetchFaults("BR before the TEXT", text - 4, Word.br(1));
+        fetchFaults("BLR before the TEXT", text - 4, Word.blr(1));
+        fetchFaults("BR before the TEXT, no multiple of 4", text - 1, Word.br(1));
+        fetchFaults("BR to 31", 5, Word.br(31));
+        fetchFaults("RET to the TEXT's end", text + 4 * 5, Word.ret(1));
+        fetchFaults("BR behind the TEXT's end, no multiple of 4", text + 4 * 5 + 1, Word.br(1));
+        fetchFaults("BR over the greatest", -1, Word.br(1));
         Prog q = begin();
         q.put(Word.blr(2)).label("stay").b("stay");
         CodeLayout x = read(q);
@@ -190,29 +208,68 @@ public final class RunTest {
         Due.is("visits", x.told(0, 0), 1);
     }
 
+    /** What is astray is not done: it is not counted, and BLR leaves X30 as it was. */
+    private static void goesAstray(String what, long to) {
+        for (int w : new int[] {Word.br(1), Word.blr(1), Word.ret(1)}) {
+            CodeLayout x = leads(what, 4, to, w, 0);
+            Due.is(what + ": run 1", x.run(1, 9), 3);
+        }
+    }
+
     private static void astray() {
+        long text = begin().textAddress();
+        goesAstray("into a block", text + 4);
+        goesAstray("to itself", text + 12);
+        for (int k = 1; k < 4; k++) {
+            goesAstray("to no multiple of 4, in a block's first word", text + k);
+            goesAstray("to no multiple of 4, inside a block", text + 4 + k);
+            goesAstray("to no multiple of 4, in the last word", text + 16 + k);
+        }
         Prog p = begin();
-        long text = p.textAddress();
-        leads("BR into a block", 4, text + 4, Word.br(1), 1);
-        leads("RET into a block", 4, text + 4, Word.ret(1), 1);
-        leads("BLR into a block", 4, text + 4, Word.blr(1), 1);
-        Prog q = begin();
-        q.number(1, text + 4).put(Word.br(1)).label("stay").b("stay");
-        CodeLayout x = read(q);
-        Due.is("lay()", x.lay(4, 65536), 65536 * 4 - text + 4 * q.words.size());
-        Due.is("run 0", x.run(0, 9), 4);
-        Due.is("run 1", x.run(1, 9), 3);
-        Due.is("run 2: into the bytes between", x.run(2, 9), 4);
-        Due.is("outcome", x.told(2, 5), 4);
-        Due.is("visits", x.told(2, 0), 1);
-        int bytes = x.lay(4, 4);
-        Due.is("lay()", bytes, 4 * q.words.size());
-        Due.is("run 2: into a block", x.run(2, 9), 4);
+        p.put(Word.movz(30, (int) text + 4 & 0xFFFF, 0), Word.movk(30, (int) (text + 4 >> 16), 1), Word.blr(30));
+        p.label("stay").b("stay");
+        CodeLayout x = read(p);
+        Due.is("BLR of X30", x.run(0, 9), 4);
+        Due.is("X30 stays", x.register(0, 30), text + 4);
+        Due.is("instructions", x.told(0, 1), 2);
         Prog r = begin();
         r.number(1, text + 12).put(Word.br(1), Word.NOP, Word.NOP).label("stay").b("stay");
         CodeLayout y = read(r);
         Due.is("to a block's first word", y.run(0, 9), 0);
         Due.is("visits", y.told(0, 0), 9);
+        Due.is("no more visits, and not astray", y.run(0, 1), 0);
+        Due.is("BR is done", y.told(0, 1), 3);
+    }
+
+    /** Where the rows lie apart, what was a block's first word may be none, and the TEXT is longer. */
+    private static void astrayInTheNewFile() {
+        long text = begin().textAddress();
+        for (int w : new int[] {Word.br(1), Word.blr(1), Word.ret(1)}) {
+            astrayApart(w, text, 4);
+            astrayApart(w, text + 1, 4);
+            astrayApart(w, text + 4, 4);
+            astrayApart(w, text + 20, 2);
+            astrayApart(w, text + 22, 2);
+            astrayApart(w, 65536 * 4 - 4, 2);
+            astrayApart(w, 65536 * 4 + 4, 2);
+            astrayApart(w, 65536 * 4 + 15, 2);
+        }
+    }
+
+    /** The block of the end is hot, the one of the entry cold. */
+    private static void astrayApart(int w, long to, int ofOldFile) {
+        Prog p = begin();
+        p.put(Word.movz(30, 7, 0)).number(1, to).put(w).label("stay").b("stay");
+        CodeLayout x = read(p);
+        x.edge(p.address("stay"), p.address("stay"), 1);
+        Due.is("lay()", x.lay(4, 65536), 65536 * 4 + 16 + (w == Word.blr(1) ? 4 : 0) - p.textAddress());
+        long due = to == p.textAddress() ? 0 : 4;
+        Due.is("run 2 to " + to, x.run(2, 2), due);
+        Due.is("visits", x.told(2, 0), due == 0 ? 2 : 1);
+        Due.is("instructions", x.told(2, 1), due == 0 ? 5 : 3);
+        Due.is("X30", x.register(2, 30), due == 0 && w == Word.blr(1) ? 65536 * 4 + 16 : 7);
+        Due.is("run 0 to " + to, x.run(0, 1), to == p.textAddress() ? 0 : ofOldFile);
+        Due.is("run 1 to " + to, x.run(1, 1), 3);
     }
 
     /** Behind BL the new file has B to NEXT, if that is elsewhere: to return there is not to go astray. */
@@ -233,6 +290,23 @@ public final class RunTest {
         Due.is("run 1", x.told(1, 1), 6);
         Due.is("newer(30)", x.newer(30), p.textAddress() + 4);
         Due.holds("the NEXT's new address is another", x.moved(p.address("next")) > p.textAddress() + 16);
+    }
+
+    /** To go right behind BL is not astray, though no block begins there in the new file; farther behind it is. */
+    private static void behindCalls() {
+        for (int farther = 0; farther < 3; farther++) {
+            Prog p = begin();
+            p.bl("g").label("next").put(Word.NOP).exit().label("stay").b("stay");
+            p.function("g").put(Word.addNumber(30, 30, farther), Word.ret(30));
+            CodeLayout x = read(p);
+            x.edge(p.textAddress(), p.address("g"), 5);
+            x.lay(64, 1024);
+            for (int which = 0; which < 3; which += 2) {
+                Due.is("RET behind BL", x.run(which, 9), farther == 0 ? 1 : 4);
+                Due.is("visits", x.told(which, 0), farther == 0 ? 3 : 2);
+                Due.is("instructions", x.told(which, 1), farther > 0 ? 2 : which == 0 ? 6 : 7);
+            }
+        }
     }
 
     private static CodeLayout tell(long from, long many) {
