@@ -25,6 +25,25 @@ final class Feeder {
         return x;
     }
 
+    /** Reads a file that breaks a rule at a place. */
+    static void refused(String what, byte[] file, int rule, int at) {
+        CodeLayout x = new CodeLayout();
+        feed(x, file);
+        Due.is(what + ": read()", x.read(), -rule);
+        Due.is(what + ": place()", x.place(), at);
+        Due.is(what + ": no file", x.count(3), 0);
+    }
+
+    /** Reads a file that keeps all rules. */
+    static CodeLayout taken(String what, byte[] file, int functions) {
+        CodeLayout x = new CodeLayout();
+        feed(x, file);
+        Due.is(what + ": read()", x.read(), functions);
+        Due.is(what + ": place()", x.place(), -1);
+        Due.is(what + ": bytes", x.count(3), file.length);
+        return x;
+    }
+
     /** The new file; far more calls than an object is promised to be good for, which this class bears. */
     static byte[] written(CodeLayout x) {
         byte[] file = new byte[x.size()];

@@ -37,6 +37,8 @@ final class Prog {
     private final List<long[]> extraSymbols = new ArrayList<>();
     String entry;
     int noteBytes;
+    /** So many notes without bytes come behind all other sections. */
+    int emptyNotes;
     /** The segments' addresses begin so much higher. */
     long higher;
 
@@ -217,7 +219,7 @@ final class Prog {
     }
 
     int sections() {
-        return symbolSection() + (noteBytes > 0 ? 3 : 2);
+        return symbolSection() + (noteBytes > 0 ? 3 : 2) + emptyNotes;
     }
 
     int dataOffset(int segment) {
@@ -388,6 +390,9 @@ final class Prog {
             for (int i = 0; i < noteBytes; i++) {
                 out.put(nameOffset() + 8 + i, 1, i + 1);
             }
+        }
+        for (int i = 0; i < emptyNotes; i++) {
+            putSection(out, sections() - 1 - i, 1, 0, 0, headsOffset(), 0, 0, 0);
         }
         out.put(nameOffset() + 1, 1, 'a');
     }
