@@ -148,6 +148,11 @@ final class Word {
         return 0xA8000000 | how << 23 | (number >> 3 & 127) << 15 | a << 10 | n << 5 | d;
     }
 
+    /** CBNZ over the next two words. */
+    static int cbnzAt(int d) {
+        return 0xB5000060 | d;
+    }
+
     static int br(int n) {
         return 0xD61F0000 | n << 5;
     }
