@@ -321,6 +321,15 @@ public final class FileEdgesTest {
             refused("SIZE", with(text + 32, 8, 4 * prog.words.size() + more), 3, text + 32);
         }
         refused("ADDRESS with bit 32", with(text + 16, 8, prog.textAddress() | 1L << 32), 3, text + 16);
+        // With no DATA right before it OFFSET alone is wrong.
+        Prog p = new Prog();
+        p.data(6, 8);
+        p.function("f").put(Word.ret(30));
+        int head = p.sectionHead(p.textSection());
+        for (int more : new int[] {-8, -4, 4}) {
+            Feeder.refused("OFFSET alone", new Bytes(p.file()).put(head + 24, 8, p.textOffset() + more).bytes, 3,
+                head + 24);
+        }
     }
 
     /** Section 1 moved by so many bytes in memory and in the file. */
@@ -453,6 +462,9 @@ public final class FileEdgesTest {
             refused("TEXT", new Bytes(file.bytes).put(text + 16, 8, 0), 3, text + 16);
             refused("DATA", new Bytes(file.bytes).put(head(to[1]) + 16, 8, 0), 3, head(to[1]) + 16);
             refused("a name", new Bytes(file.bytes).put(head(to[1]), 4, 8), 3, head(to[1]));
+            int ofData = head(to[prog.dataFixSection(0)]);
+            refused("INFO of two", new Bytes(file.bytes).put(ofData + 44, 4, to[prog.textSection()]), 3,
+                Math.max(ofData, fixes) + 44);
             int fix = prog.fixOffset();
             refused("a fix", new Bytes(file.bytes).put(fix + 8, 4, 1), 5, fix + 8);
             CodeLayout x = Feeder.taken("for a layout", file.bytes, 2);

@@ -3,6 +3,7 @@ public final class LayEdgesTest {
     public static void main(String[] args) {
         countLimits();
         refusedEdges();
+        refusedCalls();
         pagesAndAparts();
         lesserFrom();
         lesserTo();
@@ -14,10 +15,15 @@ public final class LayEdgesTest {
         greatestSum();
         sumOfBothWays();
         notAboveByNumber();
+        toldInAnyOrder();
+        coldFunctionBetween();
         aloneInItsBlock();
         toTheNextBlock();
         equalHeat();
         sumOfOneCaller();
+        callersInAnyOrder();
+        clusterOfClusters();
+        manyHeats();
         noCaller();
         justThePage();
         equalQuotients();
@@ -29,6 +35,7 @@ public final class LayEdgesTest {
         shrinks();
         turnedConditions();
         nextThatIsTaken();
+        neitherIsBehind();
         cascade();
         sizesOfFunctions();
         symbolAtAnEndLeftOut();
@@ -109,6 +116,31 @@ public final class LayEdgesTest {
                 Due.is("calls()", x.calls(u, v), 0);
             }
         }
+    }
+
+    /** Blocks: a 0 none, 1 BR; b 2 BL c, 3 none, 4 BR, 5 RET; c 6 RET; d 7 RET. Named are 1, 3, 6. */
+    private static void refusedCalls() {
+        Prog p = new Prog();
+        p.data(6, 32);
+        p.function("a").put(Word.NOP).label("a1").put(Word.br(1));
+        p.function("b").bl("c").label("b1").put(Word.NOP).label("b2").put(Word.br(1), Word.ret(30));
+        p.function("c").put(Word.ret(30));
+        p.function("d").put(Word.ret(30));
+        p.pointer(0, 0, "a1").pointer(0, 8, "b1").pointer(0, 16, "c").pointer(0, 24, "b2");
+        CodeLayout x = Feeder.read(p.file(), 4);
+        Due.is("blocks", x.count(1), 8);
+        int[][] wrong = {{2, 7}, {2, 2}, {2, 0}, {2, 4}, {4, 1}, {4, 6}, {4, 0}, {4, 2}, {4, 7}, {1, 3}, {1, 2}, {5, 3},
+            {5, 4}, {5, 2}, {6, 6}, {0, 0}, {3, 3}};
+        for (int[] w : wrong) {
+            Due.is("from " + w[0] + " to " + w[1], x.edge(last(x, w[0]), x.block(w[1], 0), 1), -4);
+        }
+        int[][] right = {{0, 1}, {1, 1}, {2, 3}, {2, 6}, {3, 4}, {4, 3}, {4, 4}};
+        for (int[] r : right) {
+            edge(x, r[0], r[1], 1);
+        }
+        Due.is("one call", x.calls(1, 2), 1);
+        Due.is("it is no way", x.way(2, 6), 0);
+        Due.is("ways", x.way(4, 3) + x.way(4, 4) + x.way(2, 3), 3);
     }
 
     private static void pagesAndAparts() {
@@ -279,6 +311,62 @@ public final class LayEdgesTest {
         row("6 is above 5", x, 0, 2, 1, 3);
         Due.is("weight by number", x.weight(0, 0), 5);
         Due.is("weight as laid", x.weight(0, 1), 6);
+        CodeLayout y = blocks(2, 2, 3);
+        edge(y, 0, 2, 5);
+        edge(y, 0, 1, 4);
+        edge(y, 1, 2, 4);
+        y.lay(4, 4);
+        row("5 is below 8", y, 0, 1, 2, 3);
+        Due.is("weight as laid", y.weight(0, 1), 8);
+    }
+
+    /** Of ways and calls only how often they were gone says something, not when that was told. */
+    private static void toldInAnyOrder() {
+        int[][] edges = {{0, 1, 3}, {0, 4, 5}, {1, 2, 2}, {1, 6, 5}, {2, 3, 1}, {2, 7, 9}, {3, 1, 4}, {4, 5, 5}, {5, 2, 5},
+            {6, 7, 3}, {7, 0, 6}, {7, 8, 4}};
+        int[] steps = {1, 5, 7, 11};
+        CodeLayout first = null;
+        for (int step : steps) {
+            for (int from = 0; from < 12; from += 5) {
+                CodeLayout x = blocks(4, 6, 7, 1, 7, 2, 0, 0);
+                for (int i = 0; i < 12; i++) {
+                    int[] e = edges[(from + step * i) % 12];
+                    edge(x, e[0], e[1], e[2]);
+                }
+                x.lay(4, 4);
+                if (first == null) {
+                    first = x;
+                }
+                for (int k = 0; k < 9; k++) {
+                    Due.is("order(" + k + ")", x.order(k), first.order(k));
+                }
+                Due.is("weight", x.weight(0, 1), first.weight(0, 1));
+            }
+        }
+        // 2 7; then 0 4, 1 6, 4 5 and 5 2 of five each; 3 1; 7 8; the first block goes on to 4 5 2 7 8, then 3 1 6.
+        row("as it is worked out", first, 0, 4, 5, 2, 7, 8, 3, 1, 6);
+        Due.is("weight", first.weight(0, 1), 5 + 5 + 5 + 9 + 4 + 4 + 5);
+    }
+
+    /** A function whose blocks are chained, one that is cold, and one that is hot. */
+    private static void coldFunctionBetween() {
+        Prog p = new Prog();
+        for (int f = 0; f < 3; f++) {
+            String n = "f" + f;
+            p.function(n).put(Word.NOP).cbz(1, n + "c").put(Word.NOP, Word.ret(29)).label(n + "c").put(Word.NOP);
+            p.b(n + "e").put(Word.ret(28)).label(n + "e").put(Word.ret(30));
+        }
+        CodeLayout x = Feeder.read(p.file(), 3);
+        for (int f = 0; f < 3; f += 2) {
+            edge(x, 5 * f, 5 * f + 2, 9);
+            edge(x, 5 * f, 5 * f + 1, 2);
+            edge(x, 5 * f + 2, 5 * f + 4, 8);
+        }
+        x.lay(4, 4);
+        row("both chained", x, 0, 2, 4, 1, 10, 12, 14, 11, 3, 5, 6, 7, 8, 9, 13);
+        Due.is("weight", x.weight(0, 1), 17);
+        Due.is("weight of the cold one", x.weight(1, 1), 0);
+        Due.is("weight", x.weight(2, 1), 17);
     }
 
     private static Prog withB(boolean alone, String label) {
@@ -371,6 +459,58 @@ public final class LayEdgesTest {
         call(x, 0, 3, 1);
         x.lay(64, 4);
         hotRow("of equal callers the least", x, 0, 9, 3, 4);
+    }
+
+    /** The caller is the one with the most calls, of equal ones the least, whenever they were told. */
+    private static void callersInAnyOrder() {
+        int[][] told = {{0, 1, 2}, {2, 1, 0}, {1, 2, 0}, {2, 0, 1}, {1, 0, 2}, {0, 2, 1}};
+        for (int[] order : told) {
+            for (int most = 0; most < 3; most++) {
+                CodeLayout x = functions(1, 1, 1, 1);
+                CodeLayout y = functions(1, 1, 1, 1);
+                for (int f : order) {
+                    call(x, f, 3, f == most ? 9 : 4);
+                    call(y, f, 3, f < most ? 4 : 9);
+                }
+                x.lay(16, 4);
+                y.lay(16, 4);
+                Due.is("the most calls", x.order(0), 3 * most);
+                Due.is("3 behind it", x.order(1), 9);
+                Due.is("of equal ones the least", y.order(0), 3 * most);
+                Due.is("3 behind it", y.order(1), 9);
+            }
+        }
+    }
+
+    /** A cluster put behind another takes all its functions with it. */
+    private static void clusterOfClusters() {
+        CodeLayout x = functions(1, 1, 1, 1, 1);
+        call(x, 1, 2, 10);
+        call(x, 0, 1, 9);
+        call(x, 2, 3, 8);
+        call(x, 4, 0, 7);
+        x.lay(4096, 4);
+        // 2 behind 1; both behind 0; 3 behind these three; all behind 4.
+        hotRow("five in one", x, 12, 0, 3, 6, 9);
+        x.lay(24, 4);
+        hotRow("three at most", x, 0, 3, 6, 9, 12);
+        x.lay(16, 4);
+        hotRow("two at most", x, 3, 6, 9, 12, 0);
+    }
+
+    private static void manyHeats() {
+        int[][] told = {{1, 2, 3, 4}, {4, 3, 2, 1}, {2, 4, 1, 3}, {3, 1, 4, 2}};
+        for (int[] order : told) {
+            CodeLayout x = functions(1, 1, 1, 1, 1);
+            for (int f : order) {
+                call(x, 0, f, 10 * f);
+            }
+            // Each fits with 0, but not two: the hottest is looked at first.
+            x.lay(16, 4);
+            hotRow("4 with 0, the others by heat", x, 9, 0, 12, 6, 3);
+            x.lay(24, 4);
+            hotRow("4 and 3 with 0", x, 0, 12, 9, 6, 3);
+        }
     }
 
     private static void noCaller() {
@@ -484,6 +624,10 @@ public final class LayEdgesTest {
             Due.is("check()", x.check(), 0);
             Due.is("run(2)", x.run(2, 9), 2);
             Due.is("visits", x.told(2, 0), 2);
+            int shift = x.size() - p.file().length;
+            Due.is("the first symbol's VALUE", longOut(x, p.symbolAt(1) + shift + 8), cold);
+            Due.is("ENTRY", longOut(x, 24), cold);
+            Due.is("the first symbol", longOut(x, p.symbolAt(0) + shift + 8), 0);
         }
         Due.is("laid(0)", x.laid(0), 0);
     }
@@ -599,6 +743,24 @@ public final class LayEdgesTest {
         Due.is("laid(4)", y.laid(4), 1);
     }
 
+    /** Neither NEXT nor TAKEN comes right behind, be TAKEN before or behind what does: to TAKEN, and B to NEXT. */
+    private static void neitherIsBehind() {
+        CodeLayout x = leaps(6);
+        edge(x, 0, 2, 9);
+        edge(x, 0, 5, 4);
+        x.lay(4, 4);
+        row("2 before 5", x, 0, 2, 5, 1, 3, 4, 6);
+        Due.is("4 alone is turned over, to 5", x.laid(3), 1);
+        Due.is("Bs put behind 2, 5, 1", x.laid(4), 3);
+        CodeLayout y = leaps(1);
+        edge(y, 0, 2, 9);
+        edge(y, 0, 5, 4);
+        y.lay(4, 4);
+        row("2 before 5, TAKEN is 1", y, 0, 2, 5, 1, 3, 4, 6);
+        Due.is("4 alone is turned over, to 5", y.laid(3), 1);
+        Due.is("Bs put behind 2, 5, 1", y.laid(4), 3);
+    }
+
     /** In the cold row one END that does not reach becomes long, and moves the next one out of its reach. */
     private static void cascade() {
         int[] seen = new int[3];
@@ -695,9 +857,9 @@ public final class LayEdgesTest {
 
     private static Prog wide() {
         Prog p = new Prog();
-        p.function("f").label("b0").put(Word.NOP).tbz(1, 3, "b2").label("b1").put(Word.NOP).b("b2");
+        p.function("f").label("b0").put(Word.NOP).tbz(1, 3, "b2").label("b1").put(Word.NOP).bFixed("b2");
         p.label("b2").put(Word.NOP).cbnz(1, "b5").label("b3").put(Word.blr(1)).label("b4").tbnz(2, 9, "b6");
-        p.label("b5").put(Word.NOP).b("b1").label("b6").put(Word.ret(30));
+        p.label("b5").put(Word.NOP).bFixed("b1").label("b6").put(Word.ret(30));
         p.function("g").label("b7").put(Word.NOP).b("f");
         return p;
     }

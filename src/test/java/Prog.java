@@ -39,6 +39,8 @@ final class Prog {
     int noteBytes;
     /** So many notes without bytes come behind all other sections. */
     int emptyNotes;
+    /** The TEXT begins so many bytes behind the multiple of 16 that comes behind the data; a multiple of 4. */
+    int textMore;
     /** The segments' addresses begin so much higher. */
     long higher;
 
@@ -235,7 +237,7 @@ final class Prog {
     }
 
     int textOffset() {
-        return dataOffset(data.size());
+        return dataOffset(data.size()) + textMore;
     }
 
     long textAddress() {

@@ -14,6 +14,9 @@ public final class RunEdgesTest {
         closeSegments();
         oddSegments();
         stackAndData();
+        oddText();
+        everyPlace();
+        stackHoldsNumbers();
         addressesThatWrap();
         storesWithoutTheFlag();
         nothingIsDone();
@@ -35,6 +38,8 @@ public final class RunEdgesTest {
         codesOfAnotherRun();
         firstFixIsAPointer();
         codeAtTheEdges();
+        codeToAnyRegister();
+        pageOfAnother();
         textRanges();
         newTextAlone();
         keptLongs();
@@ -288,6 +293,16 @@ public final class RunEdgesTest {
 
     /** Segments that begin and end inside a long. */
     private static void oddSegments() {
+        for (int size = 41; size <= 48; size++) {
+            Prog q = new Prog();
+            q.data(6, size);
+            CodeLayout y = read(end(q.function("f")));
+            y.run(1, 9);
+            Due.is("the last long of " + size, y.keeps(q.dataAddress(0) + 40), size == 48 ? 0 : -1);
+            Due.is("the one before", y.keeps(q.dataAddress(0) + 32), 0);
+            Due.is("the last byte", y.memory(1, q.dataAddress(0) + size - 1), 0);
+            Due.is("behind it", y.memory(1, q.dataAddress(0) + size), -1);
+        }
         Prog p = begin();
         p.number(9, p.dataAddress(0) + 3).put(Word.movn(4, 0, 0), Word.store(3, 4, 9, 0), Word.load(0, 5, 9, 52));
         p.put(Word.store(0, 4, 9, 52));
@@ -339,6 +354,79 @@ public final class RunEdgesTest {
                 Due.is("the other segment", x.memory(which, p.dataAddress(1) + i), 0);
             }
             Due.is("the stack's end", x.memory(which, STACK - 1), 0);
+        }
+    }
+
+    /** The TEXT begins inside a long, right behind data. */
+    private static void oddText() {
+        for (int more : new int[] {0, 4, 8, 12}) {
+            Prog p = new Prog();
+            p.data(6, 48 + (more == 0 ? 0 : more));
+            p.textMore = more == 0 ? 0 : more - 16;
+            p.function("f");
+            Due.is("right behind data", p.textOffset(), p.dataOffset(0) + 48 + more);
+            p.number(9, p.dataAddress(0) + 44 + more).number(10, STACK - 65536).put(Word.movn(4, 0, 0));
+            p.put(Word.store(2, 4, 9, 0)).number(5, 0x1122334455667788L).put(Word.store(3, 5, 10, 0));
+            p.put(Word.store(3, 5, 10, 8), Word.load(2, 6, 9, 0), Word.load(3, 7, 10, 0));
+            CodeLayout x = runs("data and stack", 1, p);
+            register("data", x, 6, 0xFFFFFFFFL);
+            register("stack", x, 7, 0x1122334455667788L);
+            for (int which = 0; which < 3; which++) {
+                Due.is("behind data", x.memory(which, p.dataAddress(0) + 48 + more), -1);
+                Due.is("before", x.memory(which, p.dataAddress(0) + 43 + more), 0);
+                Due.is("on the stack", x.memory(which, STACK - 65536 + 15), 0x11);
+            }
+            Due.is("check()", x.check(), 0);
+            Due.holds("same()", x.same());
+        }
+    }
+
+    /** Loads and stores at each place in a long. */
+    private static void everyPlace() {
+        for (int width : new int[] {0, 2, 3}) {
+            int bytes = 1 << width;
+            for (int i = 0; i < 17; i++) {
+                Prog p = begin();
+                for (int k = 0; k < 64; k++) {
+                    p.data.get(0)[k] = (byte) (3 * k + 1);
+                }
+                p.number(9, p.dataAddress(0) + i).number(4, 0xF1E2D3C4B5A69788L);
+                p.put(Word.load(width, 5, 9, 0), Word.store(width, 4, 9, 0), Word.load(width, 6, 9, 0));
+                CodeLayout x = runs("place " + i, 1, p);
+                long loaded = 0;
+                long stored = 0;
+                for (int k = 0; k < bytes; k++) {
+                    loaded |= (long) (3 * (i + k) + 1 & 255) << 8 * k;
+                    stored |= 0xF1E2D3C4B5A69788L & 255L << 8 * k;
+                }
+                register("loaded", x, 5, loaded);
+                register("stored", x, 6, stored);
+                for (int which = 0; which < 3; which++) {
+                    for (int k = 0; k < 40; k++) {
+                        boolean inside = k >= i && k < i + bytes;
+                        int due = inside ? (int) (stored >>> 8 * (k - i)) & 255 : 3 * k + 1 & 255;
+                        Due.is("byte " + k, x.memory(which, p.dataAddress(0) + k), due);
+                    }
+                }
+            }
+        }
+    }
+
+    /** Whatever fixes the TEXT has, the stack is numbers at first. */
+    private static void stackHoldsNumbers() {
+        Prog p = begin();
+        for (int i = 0; i < 20; i++) {
+            p.codeAddress(3, "stay").bl("g");
+        }
+        end(p).function("g").put(Word.ret(30));
+        CodeLayout x = read(p);
+        x.run(1, 1);
+        for (int i = 0; i < 200; i++) {
+            Due.is("keeps()", x.keeps(STACK - 65536 + 8 * i), 0);
+            Due.is("keeps()", x.keeps(STACK - 8 - 8 * i), 0);
+        }
+        for (int i = 0; i < 64; i += 8) {
+            Due.is("keeps() of data", x.keeps(p.dataAddress(0) + i), 0);
         }
     }
 
@@ -779,6 +867,35 @@ public final class RunEdgesTest {
             for (int many : new int[] {1, 2, 7, 8, 9, 20}) {
                 Prog p = begin().number(1, begin().dataAddress(0) + i).number(2, many).put(Word.movz(8, 64, 0), Word.CALL);
                 ofBlocks("a text at " + i, i + many > 16 && i < 24 ? 3 : 1, p);
+            }
+        }
+    }
+
+    private static void codeToAnyRegister() {
+        for (int d = 0; d < 32; d++) {
+            int[] words = {Word.copy(d, 10), Word.choose(d, 10, 9, Word.NE), Word.choose(d, 9, 10, Word.EQ),
+                Word.load(3, d, 9, 16), Word.loadAt(3, d, 11, 31, true)};
+            for (int w : words) {
+                Prog p = begin().number(9, begin().dataAddress(0)).put(Word.addNumber(11, 9, 16), Word.load(3, 10, 9, 16));
+                p.put(w, Word.br(31)).label("stay").b("stay").pointer(0, 16, "stay");
+                CodeLayout x = read(p);
+                Due.is("run(1)", x.run(1, 9), 2);
+                Due.is("kind(" + d + ")", x.kind(d), d == 31 ? 0 : 1);
+                Due.is("register(" + d + ")", x.register(1, d), d == 31 ? STACK : p.address("stay"));
+            }
+        }
+    }
+
+    /** ADD with a fix 277 makes START of PAGE of that block alone. */
+    private static void pageOfAnother() {
+        String[] labels = {"one", "two", "three"};
+        for (String page : labels) {
+            for (String low : labels) {
+                Prog p = begin().codePage(3, page).codeLow(4, 3, low).exit().label("one").put(Word.NOP).label("two");
+                CodeLayout x = read(end(p.put(Word.NOP).label("three").put(Word.NOP)));
+                Due.is("PAGE of " + page + ", START of " + low, x.run(1, 9), page.equals(low) ? 1 : 3);
+                Due.is("kind(3)", x.kind(3), 3);
+                Due.is("kind(4)", x.kind(4), page.equals(low) ? 1 : 0);
             }
         }
     }
