@@ -165,6 +165,9 @@ public final class FaceTest {
             x.feed(0, 0, 0, 0, 0);
         }
         Due.is("more than 60000 in the tray", x.feed(0, 0, 0, 0, 0), -1);
+        Due.holds("a refused one leaves the tray as it is", !x.end(60001) && x.end(60000));
+        Due.holds("end(59981)", x.end(59981));
+        Due.is("one more than 60000", x.feed(0, 0, 0, 0, 0), -1);
         Due.holds("end(59980)", x.end(59980));
         Due.is("just 60000", x.feed(0, 0, 0, 0, 0), 60000);
         x.read();
@@ -172,9 +175,12 @@ public final class FaceTest {
             x.feed(0, 0, 0, 0, 0);
         }
         x.read();
+        // What end() takes away was fed all the same: 3001 and 3000 times till now, and 6553 times are 131060 bytes.
         for (int i = 1; i <= 552; i++) {
             Due.is("feed()", x.feed(0, 0, 0, 0, 0), 20 * i);
         }
         Due.is("more than 131072 in all", x.feed(0, 0, 0, 0, 0), -1);
+        Due.holds("end(0)", x.end(0));
+        Due.is("an empty tray is no help", x.feed(0, 0, 0, 0, 0), -1);
     }
 }

@@ -23,6 +23,8 @@ public final class LayEdgesTest {
         sumOfOneCaller();
         callersInAnyOrder();
         clusterOfClusters();
+        sizeOfTheWholeCluster();
+        callerInTheSameCluster();
         manyHeats();
         noCaller();
         justThePage();
@@ -496,6 +498,42 @@ public final class LayEdgesTest {
         hotRow("three at most", x, 0, 3, 6, 9, 12);
         x.lay(16, 4);
         hotRow("two at most", x, 3, 6, 9, 12, 0);
+    }
+
+    /** What was put behind another cluster belongs to it wholly: its size counts for all its functions. */
+    private static void sizeOfTheWholeCluster() {
+        CodeLayout x = functions(1, 1, 1, 1, 1, 1);
+        call(x, 1, 2, 1000);
+        call(x, 0, 1, 900);
+        call(x, 5, 5, 830);
+        call(x, 2, 3, 800);
+        call(x, 4, 0, 700);
+        x.lay(24, 4);
+        // 2 behind 1, both behind 0: these three are full, though 1 and 2 alone would have room for 3.
+        hotRow("3 does not come in", x, 0, 3, 6, 15, 9, 12);
+        x.lay(32, 4);
+        // 3400 over 32 is above 830 over 8; 4 has no room.
+        hotRow("3 comes in", x, 0, 3, 6, 9, 15, 12);
+        x.lay(40, 4);
+        hotRow("4 as well, 3400 over 40 is less", x, 15, 12, 0, 3, 6, 9);
+    }
+
+    /** The caller is in the same cluster already, though not its first function: nothing is put anywhere. */
+    private static void callerInTheSameCluster() {
+        CodeLayout x = functions(1, 1, 1);
+        call(x, 1, 2, 10);
+        call(x, 0, 1, 9);
+        call(x, 2, 0, 8);
+        x.lay(4096, 4);
+        // 2 behind 1, both behind 0; 0's caller is 2.
+        hotRow("a ring of calls", x, 0, 3, 6);
+        CodeLayout y = functions(1, 1, 1);
+        call(y, 0, 1, 9);
+        call(y, 1, 0, 9);
+        call(y, 2, 2, 1);
+        y.lay(4096, 4);
+        // 0 is looked at first and put behind 1.
+        hotRow("each calls the other", y, 3, 0, 6);
     }
 
     private static void manyHeats() {

@@ -276,24 +276,24 @@ final class Naive {
         return end - base;
     }
 
-    private int behind(int b) {
+    int behind(int b) {
         List<Integer> row = hotRow.contains(b) ? hotRow : coldRow;
         int k = row.indexOf(b);
         return k + 1 < row.size() ? row.get(k + 1) : -1;
     }
 
-    private boolean putsB(int b, int behind) {
+    boolean putsB(int b, int behind) {
         long end = x.block(b, 3);
         boolean goesOn = end == 0 || end == 4 || end == 5;
         return goesOn && x.block(b, 4) != behind
             || end == 3 && x.block(b, 4) != behind && x.block(b, 5) != behind;
     }
 
-    private boolean leaves(int b, int behind) {
+    boolean leaves(int b, int behind) {
         return x.block(b, 3) == 1 && x.block(b, 5) == behind && x.block(b, 1) > 1 && behind != b + 1;
     }
 
-    private boolean turns(int b, int behind) {
+    boolean turns(int b, int behind) {
         return x.block(b, 3) == 3 && x.block(b, 4) != behind && x.block(b, 5) == behind;
     }
 

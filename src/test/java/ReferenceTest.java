@@ -18,6 +18,9 @@ public final class ReferenceTest {
         for (int what = 0; what < 5; what++) {
             Due.holds("laid(" + what + ") is seen above 0", seen[what] > 100);
         }
+        for (int seed = 0; seed < 600; seed++) {
+            manyFunctions(new Random(seed));
+        }
         Due.end("ReferenceTest");
     }
 
@@ -43,6 +46,48 @@ public final class ReferenceTest {
         Due.is("size()", x.size(), file.length + (bytes - x.count(2) + 15 & ~15));
         Due.is("check()", x.check(), 0);
         sizesAgree(x, naive, prog, bytes);
+        bytesAgree(x, new NaiveFile(x, naive, file, bytes).make());
+    }
+
+    private static void bytesAgree(CodeLayout x, byte[] due) {
+        Due.is("bytes of the new file", x.size(), due.length);
+        // Of a wide gap between the rows not each byte is looked at.
+        for (int i = 0; i < due.length; i += i < 9000 || i > due.length - 9000 || due[i] != 0 ? 1 : 7) {
+            Due.is("out(" + i + ")", x.out(i), due[i] & 255);
+        }
+        Due.is("out() beyond", x.out(due.length), -1);
+    }
+
+    /** Functions of some words that call one another by registers: the order of clusters. */
+    private static void manyFunctions(Random random) {
+        Prog p = new Prog();
+        int functions = 2 + random.nextInt(14);
+        for (int f = 0; f < functions; f++) {
+            p.function("f" + f);
+            int words = random.nextInt(6);
+            for (int i = 0; i < words; i++) {
+                p.put(Word.NOP);
+            }
+            p.put(Word.blr(1), Word.ret(30));
+        }
+        CodeLayout x = Feeder.read(p.file(), functions);
+        Naive naive = new Naive(x);
+        int most = random.nextBoolean() ? 3 : 100;
+        int calls = 1 + random.nextInt(3 * functions);
+        for (int i = 0; i < calls; i++) {
+            int f = random.nextInt(functions);
+            int g = random.nextInt(functions);
+            int times = 1 + random.nextInt(most);
+            Due.is("edge()", x.edge(last(x, 2 * f), x.block(2 * g, 0), times), 0);
+            naive.calls.merge(new Naive.Way(2 * f, g), (long) times, Long::sum);
+        }
+        int page = 4 * (1 + random.nextInt(8 + random.nextInt(40)));
+        naive.order(page);
+        x.lay(page, 4);
+        for (int k = 0; k < naive.hotRow.size(); k++) {
+            Due.is("order(" + k + ") of clusters", x.order(k), naive.hotRow.get(k));
+        }
+        Due.is("laid(0)", x.laid(0), naive.hotRow.size());
     }
 
     private static long last(CodeLayout x, int b) {

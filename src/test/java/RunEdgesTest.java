@@ -29,6 +29,7 @@ public final class RunEdgesTest {
         otherCalls();
         carriesAndOverflows();
         flagsOfWords();
+        flagsStay();
         anyRegister();
         divisions();
         bitsTold();
@@ -39,6 +40,7 @@ public final class RunEdgesTest {
         firstFixIsAPointer();
         codeAtTheEdges();
         codeToAnyRegister();
+        codeAsAnAddress();
         pageOfAnother();
         textRanges();
         newTextAlone();
@@ -276,6 +278,8 @@ public final class RunEdgesTest {
             close(2, begin().number(9, at - i).put(Word.loadPair(2, 4, 5, 9, 0)), "a pair whose first is of both");
             close(2, begin().number(9, at - 8 - i).put(Word.loadPair(2, 4, 5, 9, 0)), "whose second is of both");
         }
+        close(1, begin().number(9, at - 8).put(Word.loadPair(2, 4, 5, 9, 0)), "a pair, each of one segment");
+        close(2, begin().number(9, at - 8).put(Word.storePair(2, 4, 5, 9, 0)), "whose second may not be written");
         close(1, begin().number(9, at - 8).put(Word.load(3, 4, 9, 0)), "the last long of one");
         close(1, begin().number(9, at).put(Word.load(3, 4, 9, 0)), "the first long of the other");
         int[] tell = {Word.movz(8, 64, 0), Word.CALL};
@@ -689,6 +693,34 @@ public final class RunEdgesTest {
         flags("and of longs: a word below 0", 0, 0x80000000L, -1, Word.ands(0, 1, 2));
     }
 
+    /** Only what is said to be with flags changes them. */
+    private static void flagsStay() {
+        int[] words = {Word.add(0, 1, 2), Word.sub(0, 1, 2), Word.addNumber(0, 1, 5), Word.subNumber(0, 1, 5),
+            Word.and(0, 1, 2), Word.or(0, 1, 2), Word.xor(0, 1, 2), Word.turned(Word.and(0, 1, 2)),
+            Word.narrow(Word.and(0, 1, 2)), Word.narrow(Word.xor(0, 1, 1)), Word.movz(0, 0, 0), Word.movn(0, 0, 0),
+            Word.movk(0, 0, 0), Word.madd(0, 1, 2, 31), Word.two(0, 1, 2, 2), Word.two(0, 1, 2, 8),
+            Word.choose(0, 1, 2, Word.EQ), Word.load(3, 0, 9, 0), Word.store(3, 1, 9, 0), Word.storePair(2, 1, 2, 9, 0),
+            Word.NOP, Word.movz(8, 1, 0)};
+        long[][] before = {{0, 0}, {-1, 1}, {Long.MIN_VALUE, -1}, {1, 0}, {1, 2}};
+        for (int k = 0; k < before.length; k++) {
+            for (int w : words) {
+                Prog p = begin().number(3, before[k][0]).number(4, before[k][1]).number(9, begin().dataAddress(0));
+                p.number(1, -5).number(2, 5).put(Word.subs(31, 3, 4), w, Word.CALL);
+                CodeLayout x = runs("a word without flags", 1, p);
+                for (int which = 0; which < 3; which++) {
+                    Due.is("flags behind it", x.told(which, 2), flagsOf(before[k][0], before[k][1]));
+                }
+            }
+        }
+    }
+
+    /** N Z C V of a less b. */
+    private static int flagsOf(long a, long b) {
+        long r = a - b;
+        boolean over = a < 0 != b < 0 && a < 0 != r < 0;
+        return (r < 0 ? 8 : 0) | (r == 0 ? 4 : 0) | (Long.compareUnsigned(a, b) >= 0 ? 2 : 0) | (over ? 1 : 0);
+    }
+
     /** Every register may be d: what it gets is lost in 31 alone. */
     private static void anyRegister() {
         for (int d = 0; d < 32; d++) {
@@ -732,6 +764,8 @@ public final class RunEdgesTest {
         two("-7 by -3", 2, -7, -3, with);
         two("7 by -2", -3, 7, -2, with);
         two("7 by -1", -7, 7, -1, with);
+        two("7 by 1", 7, 7, 1, with);
+        two("-7 by 1", -7, -7, 1, with);
         two("0 by -1", 0, 0, -1, with);
         two("least by 1", TOP, TOP, 1, with);
         two("least by -1", TOP, TOP, -1, with);
@@ -882,6 +916,37 @@ public final class RunEdgesTest {
                 Due.is("run(1)", x.run(1, 9), 2);
                 Due.is("kind(" + d + ")", x.kind(d), d == 31 ? 0 : 1);
                 Due.is("register(" + d + ")", x.register(1, d), d == 31 ? STACK : p.address("stay"));
+            }
+        }
+    }
+
+    /** CODE as n or m of a load, store or pair stops the run, wherever that would lead. */
+    private static void codeAsAnAddress() {
+        int[] words = {Word.load(0, 4, 3, 0), Word.load(0, 4, 3, 4095), Word.load(3, 4, 3, 32760), Word.store(3, 4, 3, 32760),
+            Word.store(2, 4, 3, 16380), Word.loadAt(0, 4, 3, 9, false), Word.loadAt(0, 4, 9, 3, false),
+            Word.loadAt(3, 4, 9, 3, true), Word.storeAt(3, 4, 3, 9, true), Word.storeAt(2, 4, 9, 3, true),
+            Word.loadPair(1, 4, 5, 3, 8), Word.loadPair(2, 4, 5, 3, -512), Word.loadPair(2, 4, 5, 3, 504),
+            Word.loadPair(3, 4, 5, 3, -512), Word.storePair(1, 4, 5, 3, 8), Word.storePair(2, 4, 5, 3, -512),
+            Word.storePair(3, 4, 5, 3, -512), Word.storePair(2, 4, 5, 3, 504), Word.load(0, 31, 3, 4095),
+            Word.storePair(2, 31, 31, 3, -512)};
+        for (int w : words) {
+            for (int kind = 1; kind <= 3; kind++) {
+                Prog p = begin().number(9, 16);
+                if (kind == 1) {
+                    p.codeAddress(3, "f");
+                } else if (kind == 2) {
+                    p.bl("g").label("back").put(Word.copy(3, 30));
+                } else {
+                    p.codePage(3, "f");
+                }
+                int done = p.words.size() + (kind == 2 ? 1 : 0);
+                p.put(w);
+                end(p).function("g").put(Word.ret(30));
+                CodeLayout x = read(p);
+                Due.is("kind " + kind + " by " + Integer.toHexString(w), x.run(1, 9), 3);
+                Due.is("instructions", x.told(1, 1), done);
+                Due.is("kind(3)", x.kind(3), kind);
+                Due.is("kind(4)", x.kind(4), 0);
             }
         }
     }
