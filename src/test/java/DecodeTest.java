@@ -49,7 +49,7 @@ public final class DecodeTest {
         return w >>> from & (1 << to - from + 1) - 1;
     }
 
-    private static boolean isInstruction(int w) {
+    static boolean isInstruction(int w) {
         for (int k = 0; k < ROWS.length; k++) {
             if ((w & 0xFFFFFFFFL & ROWS[k][0]) == ROWS[k][1]) {
                 return isRight(k, w);
