@@ -8,6 +8,7 @@ public final class CountsTest {
         ways();
         callsOfFunctions();
         leaps();
+        toItsOwnFirstWord();
         greatCounts();
         edgeKeepsWhatIsLaid();
         Due.end("CountsTest");
@@ -129,6 +130,33 @@ public final class CountsTest {
         Due.is("way(4, 1)", x.way(4, 1), 2);
         Due.is("way(4, 4)", x.way(4, 4), 3);
         Due.is("out", x.block(4, 7), 5);
+    }
+
+    /** B, B.cond and BR to the first word of their own function are ways; BL and BLR to it are calls. */
+    private static void toItsOwnFirstWord() {
+        Prog p = new Prog();
+        p.data(6, 8);
+        p.function("f").put(Word.NOP).bcond(Word.EQ, "f").bl("f").put(Word.blr(1), Word.br(1)).b("f");
+        p.function("g").b("g");
+        p.pointer(0, 0, "f");
+        CodeLayout x = Feeder.read(p.file(), 2);
+        Due.is("blocks", x.count(1), 6);
+        int[] counts = {1, 20, 300, 4000, 50000};
+        for (int b = 0; b < 5; b++) {
+            Due.is("from block " + b, edge(x, b, 0, counts[b]), 0);
+            boolean call = b == 1 || b == 2;
+            Due.is("way(" + b + ", 0)", x.way(b, 0), call ? 0 : counts[b]);
+        }
+        Due.is("calls(0, 0)", x.calls(0, 0), 320);
+        Due.is("heat", x.function(0, 3), 320);
+        Due.is("ways and calls to it", x.block(0, 7), 54321);
+        Due.is("a block alone to itself", edge(x, 5, 5, 6), 0);
+        Due.is("is a way", x.way(5, 5), 6);
+        Due.is("and no call", x.calls(1, 1), 0);
+        Due.is("of one function to another there is none", edge(x, 5, 0, 1), -4);
+        Due.is("B back is none", edge(x, 4, 5, 1), -4);
+        x.lay(64, 4);
+        Due.is("what goes to the first block never falls to it", x.weight(0, 1), 0);
     }
 
     private static void greatCounts() {

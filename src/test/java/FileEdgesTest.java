@@ -32,6 +32,7 @@ public final class FileEdgesTest {
         bytesOfTwo();
         links();
         names();
+        twoTexts();
         anyOrder();
         sixteenSections();
         symbolFields();
@@ -439,6 +440,37 @@ public final class FileEdgesTest {
                 refused("a name's place " + wrong, with(head(k), 4, wrong), 3, head(k));
             }
         }
+    }
+
+    /** The note made TEXTS of six bytes, beside those of eight: names of sections and of symbols are in one each. */
+    private static Bytes withTwoTexts() {
+        int note = prog.noteSection();
+        int from = prog.nameOffset() + 8;
+        return with(head(note) + 4, 4, 3).put(from, 1, 0).put(from + 5, 1, 0);
+    }
+
+    private static void twoTexts() {
+        int note = prog.noteSection();
+        int symbols = head(prog.symbolSection());
+        int symbol = prog.symbolAt(1);
+        int from = prog.nameOffset() + 8;
+        taken("two TEXTS", withTwoTexts());
+        refused("the first byte of the second", withTwoTexts().put(from, 1, 1), 3, from);
+        refused("its last byte", withTwoTexts().put(from + 5, 1, 1), 3, from + 5);
+        refused("of no byte", withTwoTexts().put(head(note) + 32, 8, 0), 3, head(note) + 32);
+        refused("with FLAGS", withTwoTexts().put(head(note) + 8, 8, 2), 3, head(note) + 8);
+        Bytes ofSymbols = withTwoTexts().put(symbols + 40, 4, note);
+        taken("the names of symbols in it", ofSymbols);
+        taken("its last place", new Bytes(ofSymbols.bytes).put(symbol, 4, 5));
+        refused("behind it", new Bytes(ofSymbols.bytes).put(symbol, 4, 6), 4, symbol);
+        taken("sections' names are in the other", new Bytes(ofSymbols.bytes).put(head(1), 4, 7));
+        refused("behind that", new Bytes(ofSymbols.bytes).put(head(1), 4, 8), 3, head(1));
+        Bytes ofSections = withTwoTexts().put(62, 2, note);
+        taken("the names of sections in it", ofSections);
+        taken("its last place", new Bytes(ofSections.bytes).put(head(1), 4, 5));
+        refused("behind it", new Bytes(ofSections.bytes).put(head(1), 4, 6), 3, head(1));
+        taken("symbols' names are in the other", new Bytes(ofSections.bytes).put(symbol, 4, 7));
+        refused("behind that", new Bytes(ofSections.bytes).put(symbol, 4, 8), 4, symbol);
     }
 
     /** Each section in each place: what is asked of it is asked there too. */
