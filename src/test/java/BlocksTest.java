@@ -17,6 +17,8 @@ public final class BlocksTest {
         chosen();
         stackPointer();
         keptInMemory();
+        conditionsUseNoRegister();
+        pointersToData();
         Due.end("BlocksTest");
     }
 
@@ -363,5 +365,37 @@ public final class BlocksTest {
         CodeLayout z = ran(1, "what was not run is as in the file");
         Due.is("a pointer", z.keeps(data + 16), 1);
         Due.is("nothing laid", z.newest(data + 16), end(begin()).address("there"));
+    }
+
+    /** The condition stands where others have a register: X3 and X4 are START, X5 PAGE. */
+    private static void conditionsUseNoRegister() {
+        for (int condition = 3; condition < 6; condition++) {
+            ran(1, "B.cond " + condition, begin().bcond(condition, "on").label("on"));
+        }
+        for (int d = 3; d < 6; d++) {
+            ran(3, "CBZ " + d, begin().cbz(d, "on").label("on"));
+            ran(3, "CBNZ " + d, begin().cbnz(d, "on").label("on"));
+            ran(3, "CBZ of a word " + d, begin().cbzWord(d, "on").label("on"));
+            ran(3, "TBZ " + d, begin().tbz(d, 0, "on").label("on"));
+            ran(3, "TBNZ " + d, begin().tbnz(d, 63, "on").label("on"));
+        }
+    }
+
+    /** A long with a fix of TYPE 257 is a number if its TARGET is not in the TEXT. */
+    private static void pointersToData() {
+        Prog p = begin().pointerToData(0, 24, 0, 40).pointerToData(1, 0, 1, 8);
+        p.put(Word.load(3, 6, 9, 24), Word.load(0, 7, 9, 24), Word.addNumber(11, 6, 4), Word.store(3, 6, 6, 8));
+        CodeLayout x = ran(1, "a pointer to data", p);
+        long data = p.dataAddress(0);
+        Due.is("what it is", x.kind(6), 0);
+        Due.is("its number", x.register(1, 6), data + 40);
+        Due.is("newer()", x.newer(6), data + 40);
+        Due.is("its lowest byte", x.register(1, 7), data + 40 & 255);
+        Due.is("four more", x.register(1, 11), data + 44);
+        Due.is("keeps()", x.keeps(data + 24), 0);
+        Due.is("newest()", x.newest(data + 24), 0);
+        Due.is("kept where it goes", x.keeps(data + 48), 0);
+        Due.is("in the other segment", x.keeps(p.dataAddress(1)), 0);
+        Due.is("beside a pointer to the TEXT", x.keeps(p.dataAddress(1) + 8), 1);
     }
 }

@@ -236,6 +236,15 @@ public final class LayEdgesTest {
         // 0 3 and 1 2; 3 has no way on that was gone.
         row("a ring is cut", x, 0, 3, 1, 2, 4);
         Due.is("weight as laid", x.weight(0, 1), 16);
+        CodeLayout y = blocks(3, 3, 1, 4, 6, 6);
+        edge(y, 1, 2, 9);
+        edge(y, 2, 1, 8);
+        edge(y, 0, 3, 7);
+        edge(y, 1, 3, 1);
+        edge(y, 5, 6, 2);
+        y.lay(4, 4);
+        row("with a chain behind it", y, 0, 3, 1, 2, 5, 6, 4);
+        Due.is("weight as laid", y.weight(0, 1), 18);
     }
 
     /** The function's first block is cold: the chain with the least block comes first, wherever that is in it. */
@@ -320,6 +329,15 @@ public final class LayEdgesTest {
         y.lay(4, 4);
         row("5 is below 8", y, 0, 1, 2, 3);
         Due.is("weight as laid", y.weight(0, 1), 8);
+        // What counts is the weight of the hot blocks by number, not of all.
+        CodeLayout z = blocks(3, 3, 4, 4);
+        edge(z, 0, 3, 5);
+        edge(z, 0, 1, 3);
+        edge(z, 1, 3, 2);
+        z.lay(4, 4);
+        row("5 is not above 5, though above 3", z, 0, 1, 3, 2, 4);
+        Due.is("weight by number", z.weight(0, 0), 3);
+        Due.is("weight as laid", z.weight(0, 1), 5);
     }
 
     /** Of ways and calls only how often they were gone says something, not when that was told. */

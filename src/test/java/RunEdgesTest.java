@@ -44,6 +44,7 @@ public final class RunEdgesTest {
         pageOfAnother();
         textRanges();
         newTextAlone();
+        oldTextAlone();
         keptLongs();
         numbersOfQuestions();
         Due.end("RunEdgesTest");
@@ -1030,6 +1031,29 @@ public final class RunEdgesTest {
         Due.is("lay()", z.lay(4, 65536), bytes);
         Due.is("the byte behind it", z.run(1, 9), 2);
         Due.is("the byte behind it in run 2", z.run(2, 9), 2);
+    }
+
+    /** The new TEXT is the shorter one: what lies in the old one alone stops run 1 too. */
+    private static void oldTextAlone() {
+        long text = begin().textAddress();
+        for (int at = 47; at <= 64; at++) {
+            Prog p = begin().number(9, text + at).put(Word.load(0, 4, 9, 0));
+            for (int i = 0; i < 2; i++) {
+                // Written with y before x, the ENDs of both fall away.
+                p.cbz(1, "y" + i).label("x" + i).put(Word.NOP).b("z" + i).label("y" + i).put(Word.NOP).b("x" + i);
+                p.label("z" + i);
+            }
+            CodeLayout x = read(end(p));
+            int[][] ways = {{0, 2}, {2, 1}, {1, 3}, {3, 5}, {5, 4}, {4, 6}, {6, 7}};
+            for (int[] way : ways) {
+                x.edge(x.block(way[0], 0) + 4 * x.block(way[0], 1) - 4, x.block(way[1], 0), 9);
+            }
+            Due.is("the old TEXT", x.count(2), 64);
+            Due.is("the new TEXT", x.lay(4, 4), 48);
+            Due.is("run 0, byte " + at, x.run(0, 20), at < 64 ? 1 : 2);
+            Due.is("run 1, byte " + at, x.run(1, 20), at < 64 ? 3 : 2);
+            Due.is("run 2, byte " + at, x.run(2, 20), at < 48 ? 1 : 2);
+        }
     }
 
     private static void keptLongs() {

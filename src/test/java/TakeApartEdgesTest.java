@@ -31,7 +31,9 @@ public final class TakeApartEdgesTest {
         goingsOfBAndBl();
         lastWords();
         leadersAtTheEdges();
+        leadersOfFixes();
         namedAtTheEdges();
+        eachEnd();
         Due.end("TakeApartEdgesTest");
     }
 
@@ -568,6 +570,28 @@ public final class TakeApartEdgesTest {
         Due.is("no NEXT behind a function's last block", x.block(1, 4), -1);
     }
 
+    /** A TARGET of each type of fix that may have it in the TEXT begins a block, also if no other fix has it. */
+    private static void leadersOfFixes() {
+        for (int type : new int[] {257, 275, 277}) {
+            Prog p = new Prog();
+            p.data(6, 16);
+            p.function("f").put(Word.NOP);
+            if (type == 257) {
+                p.pointer(0, 8, "in");
+            } else if (type == 275) {
+                p.codePage(1, "in");
+            } else {
+                p.codeLow(1, 1, "in");
+            }
+            p.put(Word.NOP).label("in").put(Word.NOP, Word.ret(30));
+            CodeLayout x = Feeder.taken("TYPE " + type, p.file(), 1);
+            Due.is("blocks, TYPE " + type, x.count(1), 2);
+            Due.is("the second block, TYPE " + type, x.block(1, 0), p.address("in"));
+            Due.is("named, TYPE " + type, x.block(1, 6), type == 257 ? 1 : 0);
+            Due.is("the first is not named, TYPE " + type, x.block(0, 6), 0);
+        }
+    }
+
     private static void namedAtTheEdges() {
         Prog p = sample();
         p.pointer(0, 0, "a").label("end").pointer(0, 8, "c");
@@ -581,5 +605,44 @@ public final class TakeApartEdgesTest {
         Due.is("a function's first", x.block(2, 6), 1);
         Due.is("the last word's block", x.block(3, 6), 1);
         Due.is("the last word's block", x.block(3, 1), 1);
+    }
+
+    /** Blocks with each END, all with a block behind them in their function: END, NEXT, TAKEN. */
+    private static void eachEnd() {
+        Prog p = new Prog();
+        p.function("f").label("a").put(Word.NOP).label("b").put(Word.NOP).b("a").put(Word.NOP).b("next");
+        p.label("next").put(Word.NOP).b("g").put(Word.NOP).bcond(Word.LT, "b").cbz(1, "a").cbnz(1, "b");
+        p.tbz(1, 5, "end").tbnz(1, 40, "next").bl("g").bl("f").put(Word.blr(1), Word.br(1), Word.ret(1));
+        p.b("f").label("end").put(Word.ret(30));
+        p.function("g").put(Word.ret(30));
+        p.data(6, 8);
+        p.pointer(0, 0, "b");
+        CodeLayout x = Feeder.taken("each END", p.file(), 2);
+        int[][] due = {{0, 1, -1}, {1, -1, 0}, {1, -1, 3}, {2, -1, -1}, {3, 5, 1}, {3, 6, 0}, {3, 7, 1}, {3, 8, 15},
+            {3, 9, 3}, {4, 10, -1}, {4, 11, -1}, {5, 12, -1}, {6, -1, -1}, {7, -1, -1}, {1, -1, 0}, {7, -1, -1},
+            {7, -1, -1}};
+        Due.is("blocks", x.count(1), due.length);
+        for (int b = 0; b < due.length; b++) {
+            Due.is("END of block " + b, x.block(b, 3), due[b][0]);
+            Due.is("NEXT of block " + b, x.block(b, 4), due[b][1]);
+            Due.is("TAKEN of block " + b, x.block(b, 5), due[b][2]);
+            Due.is("named, block " + b, x.block(b, 6), b == 1 ? 1 : 0);
+            eachWay(x, b, due[b]);
+        }
+    }
+
+    /** Successors are NEXT and TAKEN, with BR what is named; called are the functions' first blocks 0 and 16. */
+    private static void eachWay(CodeLayout x, int u, int[] due) {
+        int[] called = u == 3 || u == 9 ? new int[] {16} : u == 10 ? new int[] {0} : new int[] {0, 16};
+        for (int v = 0; v < x.count(1); v++) {
+            boolean way = v == due[1] || v == due[2] || due[0] == 6 && v == 1;
+            boolean call = false;
+            for (int first : called) {
+                call |= v == first && (due[0] == 2 || due[0] == 4 || due[0] == 5);
+            }
+            long from = x.block(u, 0) + 4 * x.block(u, 1) - 4;
+            Due.is("edge from block " + u + " to " + v, x.edge(from, x.block(v, 0), 1), way || call ? 0 : -4);
+            Due.is("way", x.way(u, v), way ? 1 : 0);
+        }
     }
 }

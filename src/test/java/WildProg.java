@@ -41,6 +41,7 @@ final class WildProg {
             prog.pointer(0, 8 * (2 * i + 1), anyLabel());
         }
         prog.pointer(1, 8, anyLabel());
+        prog.pointerToData(0, 16, random.nextInt(prog.data.size()), random.nextInt(16));
     }
 
     private String label(int f, int b) {

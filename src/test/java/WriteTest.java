@@ -9,9 +9,11 @@ public final class WriteTest {
         allCold();
         longWords();
         reach();
+        longAtOnce();
         firstLeftOut();
         fixedWords();
         fixesThatMove();
+        addendsOfMovedSymbols();
         symbolsThatMove();
         shrinks();
         clusters();
@@ -268,6 +270,33 @@ public final class WriteTest {
         Due.is("strays()", x.strays(), 0);
     }
 
+    /** Hot: ENDs that go to the same cold block. The cold row stays where it is while the hot one grows. */
+    private static void longAtOnce() {
+        for (int words = 25; words < 40; words++) {
+            Prog p = new Prog();
+            p.higher = 1048576 - 65536;
+            p.function("f");
+            for (int k = 0; k < 6; k++) {
+                p.tbz(1, k, "c");
+            }
+            p.put(Word.ret(30));
+            fill(p, words).b("c").label("c").put(Word.ret(30));
+            CodeLayout x = Feeder.read(p.file(), 1);
+            for (int k = 0; k < 6; k++) {
+                edge(x, k, k + 1, 1);
+            }
+            x.lay(64, 32768);
+            // All that did not reach while all were short, also if they would reach with those before them long.
+            long first = (1048576 + 32768 - p.textAddress()) / 4 + words + 1;
+            int due = 0;
+            for (int k = 0; k < 6; k++) {
+                due += first - k >= 8192 ? 1 : 0;
+            }
+            Due.is("made long, the first by " + first, x.laid(1), due);
+            Due.is("strays()", x.strays(), 0);
+        }
+    }
+
     /** A fix at the END of the first block, which is left out. */
     private static void firstLeftOut() {
         Prog p = new Prog();
@@ -324,6 +353,41 @@ public final class WriteTest {
             x.run(which, 100);
         }
         Due.is("run 2 makes what run 1 says", x.register(2, 3), x.newer(3));
+    }
+
+    /** Each fix keeps its symbol: where that moves, its TARGET does not, or both do, ADDEND makes up for it. */
+    private static void addendsOfMovedSymbols() {
+        Prog p = new Prog();
+        p.data(6, 32);
+        p.function("f").dataAddress(1, 0, 4).cbz(1, "hot").put(Word.NOP).label("hot").codeAddress(2, "f");
+        p.put(Word.ret(30)).pointerToData(0, 8, 0, 20).pointer(0, 16, "hot").pointer(0, 24, "f");
+        Bytes file = new Bytes(p.file());
+        long text = p.textAddress();
+        long data = p.dataAddress(0);
+        int first = p.fixOffset();
+        // Symbol 1 is the TEXT's first word. By it 4 and 20 bytes behind the data's first one are told too.
+        file.put(first + 12, 4, 1).put(first + 16, 8, data + 4 - text);
+        int toData = p.dataFixOffset(0);
+        file.put(toData + 12, 4, 1).put(toData + 16, 8, data + 20 - text);
+        CodeLayout x = Feeder.read(file.bytes, 1);
+        edge(x, 1, 2, 9);
+        x.lay(64, 64);
+        row(x, 1, 2, 0);
+        long symbol = x.moved(text);
+        Due.holds("the symbol moves", symbol > text);
+        int shift = x.size() - file.bytes.length;
+        Due.is("its VALUE", out(x, p.symbolAt(1) + shift + 8, 8), symbol);
+        long[] targets = {data + 4, data + 4, symbol, symbol, data + 20, x.moved(p.address("hot")), symbol};
+        int[] symbols = {1, 2, 1, 1, 1, 1, 1};
+        for (int k = 0; k < targets.length; k++) {
+            int fix = first + shift + 24 * k;
+            Due.is("the symbol of fix " + k, out(x, fix + 12, 4), symbols[k]);
+            long value = symbols[k] == 1 ? symbol : data;
+            Due.is("ADDEND of fix " + k, out(x, fix + 16, 8), targets[k] - value);
+        }
+        Due.is("a long to data stays", out(x, p.dataOffset(0) + 8, 8), data + 20);
+        Due.is("a long to the TEXT moves", out(x, p.dataOffset(0) + 24, 8), symbol);
+        Due.is("check()", x.check(), 0);
     }
 
     /** PLACE and ADDEND of fixes, one whose END is left out, one whose symbol is no symbol of the TEXT. */
