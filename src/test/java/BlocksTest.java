@@ -19,6 +19,8 @@ public final class BlocksTest {
         keptInMemory();
         conditionsUseNoRegister();
         pointersToData();
+        bitsThatAreNoRegister();
+        loadedOverCode();
         Due.end("BlocksTest");
     }
 
@@ -397,5 +399,45 @@ public final class BlocksTest {
         Due.is("kept where it goes", x.keeps(data + 48), 0);
         Due.is("in the other segment", x.keeps(p.dataAddress(1)), 0);
         Due.is("beside a pointer to the TEXT", x.keeps(p.dataAddress(1) + 8), 1);
+    }
+
+    /** Of a load or store by a number bits 16 to 20 are the number's: here they are those of registers with CODE. */
+    private static void bitsThatAreNoRegister() {
+        for (int k : new int[] {3, 4, 5, 30}) {
+            int number = k << 6;
+            goesOn("a load", Word.subNumber(11, 9, number), Word.load(0, 6, 11, number));
+            goesOn("a store", Word.subNumber(11, 9, number), Word.store(0, 6, 11, number));
+            goesOn("ADD by a number", Word.addNumber(6, 9, number));
+            goesOn("MOVE", Word.movz(6, k << 11 | k, 0), Word.movk(6, k << 11 | k, 1), Word.movn(6, k << 11 | k, 2));
+        }
+        // A pair's number is in bits 15 to 21, its a in bits 10 to 14.
+        goesOn("a pair", Word.addNumber(11, 9, 32), Word.storePair(2, 6, 7, 11, -24 - 8));
+        goesOn("a pair behind", Word.addNumber(11, 9, 8), Word.loadPair(2, 6, 7, 11, 3 * 8 + 8));
+        goesOn("CHOOSE", Word.choose(6, 9, 9, 3), Word.choose(6, 9, 9, 5));
+    }
+
+    /** Whatever a register was, it is a number behind a load of less than a long that is CODE. */
+    private static void loadedOverCode() {
+        for (int k : new int[] {3, 4, 5, 30}) {
+            int[] words = {Word.load(0, k, 9, 1), Word.load(2, k, 9, 0), Word.load(3, k, 9, 0), Word.load(3, k, 9, 24),
+                Word.loadSigned(k, 9, 4), Word.loadAt(0, k, 9, 31, false), Word.loadPair(2, k, 6, 9, 0),
+                Word.loadPair(2, 6, k, 9, 24), Word.movz(k, 7, 0), Word.movn(k, 7, 0), Word.add(k, 9, 9),
+                Word.and(k, 9, 9), Word.madd(k, 9, 9, 9), Word.two(k, 9, 9, 2), Word.choose(k, 9, 9, 0),
+                Word.addNumber(k, 9, 1), Word.narrow(Word.copy(k, 9)), Word.copy(k, 31)};
+            for (int w : words) {
+                Due.is("a number over CODE", ran(1, "over CODE", w).kind(k), 0);
+            }
+            // Three bytes behind data the long is made of two that are no CODE.
+            CodeLayout x = ran(1, "not at a multiple of 8", Word.addNumber(11, 9, 3), Word.load(3, k, 11, 24));
+            Due.is("a number", x.kind(k), 0);
+        }
+        CodeLayout y = ran(1, "X31 is 0 though SP is START", begin().codeLow(31, 5, "there")
+            .put(Word.store(3, 31, 9, 0), Word.storePair(2, 31, 31, 9, 32)));
+        Due.is("SP", y.kind(31), 1);
+        long data = begin().dataAddress(0);
+        for (int at : new int[] {0, 32, 40}) {
+            Due.is("what was stored", y.keeps(data + at), 0);
+            Due.is("0", y.memory(1, data + at), 0);
+        }
     }
 }

@@ -32,6 +32,7 @@ public final class FileEdgesTest {
         bytesOfTwo();
         links();
         names();
+        freeFields();
         twoTexts();
         anyOrder();
         sixteenSections();
@@ -438,6 +439,50 @@ public final class FileEdgesTest {
             taken("a name's last place", with(head(k), 4, 7));
             for (int wrong : new int[] {8, 9, -1, Integer.MIN_VALUE}) {
                 refused("a name's place " + wrong, with(head(k), 4, wrong), 3, head(k));
+            }
+        }
+    }
+
+    /** Fields of which the document says nothing may hold anything, and hold it in the new file too. */
+    private static void freeFields() {
+        for (int s = 1; s < prog.sections(); s++) {
+            int type = (int) new Bytes(good).get(head(s) + 4, 4);
+            boolean lies = s <= prog.textSection();
+            if (!lies) {
+                free("ADDRESS of " + s, head(s) + 16, 8);
+            }
+            if (type != 2 && type != 4) {
+                free("LINK of " + s, head(s) + 40, 4);
+                free("ENTSIZE of " + s, head(s) + 56, 8);
+            }
+            if (type != 4) {
+                free("INFO of " + s, head(s) + 44, 4);
+            }
+            free("the field at 48 of " + s, head(s) + 48, 8);
+        }
+        for (int k = 1; k < prog.symbolCount(); k++) {
+            int at = prog.symbolAt(k);
+            boolean function = (new Bytes(good).get(at + 4, 1) & 15) == 2;
+            free("the byte at 5 of symbol " + k, at + 5, 1);
+            if (!function) {
+                free("SIZE of symbol " + k, at + 16, 8);
+            }
+            for (int high = 0; high < 16; high++) {
+                taken("high bits of KIND", with(at + 4, 1, high << 4 | (function ? 2 : 1)));
+            }
+        }
+    }
+
+    private static void free(String what, int at, int n) {
+        for (long value : new long[] {1, 2, 3, 4, prog.symbolSection(), prog.nameSection(), -1, TOP, 255}) {
+            Bytes file = with(at, n, value);
+            CodeLayout x = Feeder.taken(what + " " + value, file.bytes, 2);
+            Due.holds(what + ": same()", x.same());
+            x.lay(4, 64);
+            Due.is(what + ": check()", x.check(), 0);
+            int shift = x.size() - file.bytes.length;
+            for (int i = 0; i < n; i++) {
+                Due.is(what + " in the new file", x.out(at + shift + i), file.get(at + i, 1));
             }
         }
     }

@@ -4,6 +4,7 @@ public final class InstructionTest {
 
     public static void main(String[] args) {
         sums();
+        sumsInSp();
         flagsOfSums();
         bits();
         moves();
@@ -340,5 +341,23 @@ public final class InstructionTest {
         Due.is("trace(0, 0, 4)", x.trace(0, 0, 4), 0);
         Due.is("trace(0, 0, -1)", x.trace(0, 0, -1), 0);
         Due.is("trace(0, -1, 0)", x.trace(0, -1, 0), 0);
+    }
+
+    /** SP holds a long: all of it, or of a word's sum the lowest 4 bytes with 0 above. */
+    private static void sumsInSp() {
+        long[] values = {1L << 40 | 5, -1, TOP, TOP | 3, 0xFFFFFFFFL, 4294967296L, 0};
+        for (long value : values) {
+            CodeLayout x = exec(value, 0, 0, Word.addNumber(31, 1, 7), Word.addNumber(0, 31, 1));
+            CodeLayout y = exec(value, 0, 0, Word.narrow(Word.addNumber(31, 1, 7)), Word.addNumber(0, 31, 1));
+            CodeLayout z = exec(value, 0, 0, Word.subNumber(31, 1, 9), Word.narrow(Word.addNumber(0, 31, 0)));
+            for (int which = 0; which < 3; which++) {
+                Due.is("SP", x.register(which, 31), value + 7);
+                Due.is("SP and 1", x.register(which, 0), value + 8);
+                Due.is("SP of a word", y.register(which, 31), value + 7 & 0xFFFFFFFFL);
+                Due.is("SP of a word and 1", y.register(which, 0), (value + 7 & 0xFFFFFFFFL) + 1);
+                Due.is("SP less 9", z.register(which, 31), value - 9);
+                Due.is("as a word", z.register(which, 0), value - 9 & 0xFFFFFFFFL);
+            }
+        }
     }
 }

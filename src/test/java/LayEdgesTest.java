@@ -20,7 +20,9 @@ public final class LayEdgesTest {
         aloneInItsBlock();
         toTheNextBlock();
         equalHeat();
+        callsAreNoWays();
         sumOfOneCaller();
+        callsOfOthers();
         callersInAnyOrder();
         clusterOfClusters();
         sizeOfTheWholeCluster();
@@ -41,6 +43,7 @@ public final class LayEdgesTest {
         cascade();
         sizesOfFunctions();
         symbolAtAnEndLeftOut();
+        farthestCalls();
         layAgain();
         afterAnotherFile();
         beyondWhatIsLaid();
@@ -464,6 +467,46 @@ public final class LayEdgesTest {
         call(x, 0, 2, 1);
         x.lay(16, 4);
         hotRow("the hotter one is put behind", x, 3, 0, 6);
+    }
+
+    /** Block 1 of f calls f itself, or a function before it; where its chain comes, only ways tell. */
+    private static void callsAreNoWays() {
+        for (int before = 0; before < 2; before++) {
+            Prog p = new Prog();
+            p.data(6, 32);
+            if (before > 0) {
+                p.function("g").put(Word.ret(30));
+            }
+            p.function("f").put(Word.NOP, Word.br(1)).label("b1").put(Word.NOP).bl(before > 0 ? "g" : "f");
+            p.put(Word.ret(30)).label("b3").put(Word.NOP, Word.ret(30)).label("b4").put(Word.ret(30));
+            p.label("b5").put(Word.NOP).b("b4");
+            p.pointer(0, 0, "b1").pointer(0, 8, "b3").pointer(0, 16, "b5");
+            CodeLayout x = Feeder.read(p.file(), 1 + before);
+            edge(x, before, before + 1, 3);
+            edge(x, before, before + 3, 5);
+            edge(x, before, before + 5, 1);
+            edge(x, before + 5, before + 4, 9);
+            edge(x, before + 1, 0, 100);
+            Due.is("calls", x.calls(before, 0), 100);
+            x.lay(4, 4);
+            if (before > 0) {
+                row("a call of another", x, 0, 1, 4, 2, 6, 5, 3);
+            } else {
+                row("a call of itself", x, 0, 3, 1, 5, 4, 2);
+            }
+            Due.is("weight", x.weight(before, 1), 9);
+        }
+    }
+
+    /** The caller of f is the one with the most calls of f; what it calls else says nothing. */
+    private static void callsOfOthers() {
+        CodeLayout x = functions(1, 1, 1, 1);
+        call(x, 0, 3, 5);
+        call(x, 1, 3, 4);
+        call(x, 1, 2, 100);
+        edge(x, 3, 4, 1000);
+        x.lay(32, 4);
+        hotRow("3 behind 0, 2 behind 1", x, 3, 4, 6, 0, 9);
     }
 
     /** Calls of one function from several blocks of another are one sum. */
@@ -991,6 +1034,31 @@ public final class LayEdgesTest {
         for (int f : new int[] {-1, 1, Integer.MIN_VALUE, Integer.MAX_VALUE}) {
             Due.is("weight(" + f + ", 0)", x.weight(f, 0), -14);
             Due.is("weight(" + f + ", 1)", x.weight(f, 1), -14);
+        }
+    }
+
+    /** BL and B from one row to the other, as far apart as rows may be: farther than a B.cond could tell. */
+    private static void farthestCalls() {
+        for (int hot = 0; hot < 2; hot++) {
+            Prog p = new Prog();
+            p.function("f").put(Word.NOP).bl("g").put(Word.NOP).b("g");
+            p.function("g").put(Word.NOP).bl("f").put(Word.NOP).b("f");
+            CodeLayout x = Feeder.read(p.file(), 2);
+            edge(x, 2 * hot, 2 * hot + 1, 1);
+            x.lay(4, 2097152);
+            row("one function is hot", x, 2 * hot, 2 * hot + 1, 2 - 2 * hot, 3 - 2 * hot);
+            int[] words = {1, 3, 5, 7};
+            for (int i : words) {
+                long from = x.moved(p.textAddress() + 4 * i);
+                long to = x.moved(p.address(i < 4 ? "g" : "f"));
+                Due.holds("far away", Math.abs(to - from) > 4 * 262144);
+                int due = (i % 4 == 1 ? Prog.BL : Prog.B) | (int) (to - from >> 2) & 0x3FFFFFF;
+                int at = p.textOffset() + (int) (from - p.textAddress());
+                int got = x.out(at) | x.out(at + 1) << 8 | x.out(at + 2) << 16 | x.out(at + 3) << 24;
+                Due.is("word " + i, got, due);
+            }
+            Due.is("made long", x.laid(1), 0);
+            Due.is("put behind", x.laid(4), 0);
         }
     }
 }

@@ -310,6 +310,9 @@ public final class TakeApartEdgesTest {
         long here = p.textAddress();
         long target = p.dataAddress(0) + 8;
         Feeder.taken("ADRP", file.bytes, 1);
+        // An ADD that has the bits of no page more and no page less, and TARGET in this page.
+        Bytes notAdrp = new Bytes(file.bytes).put(p.textOffset(), 4, Word.addNumber(1, 0, 0));
+        refused("ADD", notAdrp.put(fix + 12, 4, 0).put(fix + 16, 8, here), 9, fix);
         for (long pages : new long[] {-1, 1, 4, -4, 1 << 20, -(1 << 20)}) {
             refused("another page", new Bytes(file.bytes).put(p.textOffset(), 4, adrp(here, target + 4096 * pages)), 9,
                 fix);
@@ -393,6 +396,17 @@ public final class TakeApartEdgesTest {
             refused("by a register", new Bytes(file.bytes).put(at, 4, Word.loadAt(3, 1, 2, 3, false)), 9, fix);
             refused("nothing", new Bytes(file.bytes).put(at, 4, Word.NOP), 9, fix);
         }
+        // Words that are no loads by a number, though their bits would tell the same width and number.
+        int[] alike = {0, Word.narrow(Word.addNumber(1, 2, 0)), Word.addNumber(1, 2, 0), Word.subNumber(1, 2, 0)};
+        for (int k = 1; k < 4; k++) {
+            Prog p = withLow(alike[k], types[k], 8);
+            Feeder.refused("ADD with TYPE " + types[k], p.file(), 9, p.fixOffset());
+        }
+        Prog byRegister = withLow(Word.loadAt(0, 1, 2, 0, false), 278, 8);
+        int itsFix = byRegister.fixOffset();
+        int itsNumber = Word.loadAt(0, 1, 2, 0, false) >>> 10 & 4095;
+        refused("by a register, the bits fit", new Bytes(byRegister.file()).put(byRegister.textOffset(), 4,
+            Word.loadAt(0, 1, 2, 0, false)).put(itsFix + 12, 4, 0).put(itsFix + 16, 8, 4096 * 77 + itsNumber), 9, itsFix);
         for (int bit : new int[] {22, 29, 30, 31}) {
             Prog p = withLow(Word.addNumber(1, 2, 0) ^ 1 << bit, 277, 8);
             Feeder.refused("ADD with bit " + bit, p.file(), 9, p.fixOffset());

@@ -14,6 +14,7 @@ public final class WriteTest {
         fixedWords();
         fixesThatMove();
         addendsOfMovedSymbols();
+        fixesBesideOneLeftOut();
         symbolsThatMove();
         shrinks();
         clusters();
@@ -353,6 +354,32 @@ public final class WriteTest {
             x.run(which, 100);
         }
         Due.is("run 2 makes what run 1 says", x.register(2, 3), x.newer(3));
+    }
+
+    /** The END is left out; the fixes of the other words in its block stay. */
+    private static void fixesBesideOneLeftOut() {
+        Prog p = new Prog();
+        p.data(6, 32);
+        p.function("f").cbz(1, "c").dataAddress(2, 0, 8).bFixed("d").label("c").put(Word.NOP).label("d");
+        p.put(Word.ret(30));
+        CodeLayout x = Feeder.read(p.file(), 1);
+        edge(x, 0, 1, 9);
+        edge(x, 1, 3, 9);
+        x.lay(64, 64);
+        row(x, 0, 1, 3, 2);
+        laid(x, 3, 0, 1, 0, 1);
+        int fix = p.fixOffset() + x.size() - p.file().length;
+        long a = p.textAddress();
+        int[] types = {275, 277};
+        for (int k = 0; k < 2; k++) {
+            Due.is("PLACE", out(x, fix, 8), x.moved(a + 4 + 4 * k));
+            Due.is("TYPE", out(x, fix + 8, 4), types[k]);
+            Due.is("symbol", out(x, fix + 12, 4), 2);
+            Due.is("ADDEND", out(x, fix + 16, 8), 8);
+            fix += 24;
+        }
+        Due.is("that of the END", out(x, fix, 8) | out(x, fix + 8, 8) | out(x, fix + 16, 8), 0);
+        Due.is("check()", x.check(), 0);
     }
 
     /** Each fix keeps its symbol: where that moves, its TARGET does not, or both do, ADDEND makes up for it. */
