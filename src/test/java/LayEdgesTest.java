@@ -507,6 +507,14 @@ public final class LayEdgesTest {
         edge(x, 3, 4, 1000);
         x.lay(32, 4);
         hotRow("3 behind 0, 2 behind 1", x, 3, 4, 6, 0, 9);
+        // What an earlier lay() summed up is forgotten.
+        CodeLayout y = functions(1, 1, 1, 1);
+        call(y, 0, 3, 5);
+        call(y, 1, 3, 7);
+        for (int times = 0; times < 4; times++) {
+            y.lay(32, 4);
+            hotRow("3 behind 1, time " + times, y, 3, 9, 0);
+        }
     }
 
     /** Calls of one function from several blocks of another are one sum. */
