@@ -158,7 +158,7 @@ final class WildProg {
                 prog.number(random.nextInt(8) == 0 ? 9 : d == 31 ? 5 : d, number());
                 break;
             case 8:
-                prog.put(Word.load(width(), d, 10, 0));
+                prog.put(random.nextBoolean() ? Word.load(width(), d, 10, 0) : Word.load(width(), d, 12, 8));
                 break;
             case 9:
                 prog.put(Word.store(width(), d, 12, 8));
